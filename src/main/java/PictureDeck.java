@@ -73,7 +73,6 @@ public final class PictureDeck {
             throw new IllegalStateException("a picture is open");
         }
         this.kind = kind;
-        made = 0;
         directionsBefore = NOWHERE;
         motion.prepare(forward, backward, whole);
         blocks.prepare();
@@ -250,7 +249,6 @@ public final class PictureDeck {
         down = h;
         kind = NO_PICTURE;
         made = 0;
-        directionsBefore = NOWHERE;
         shelf.clear(w, h);
         blocks.clear();
         motion.prepare(1, 1, false);
@@ -351,7 +349,7 @@ public final class PictureDeck {
         return v > most ? most : v;
     }
 
-    /** One plane of a picture. Its row of samples is made small, and once again for the largest shape. */
+    /** One plane of a picture, or of what is kept of it; its row of samples is made at most twice. */
     private static final class Plane {
         private final int side;
         private int width;
@@ -474,7 +472,7 @@ public final class PictureDeck {
         }
     }
 
-    /** The pictures that are kept for one reason or another; they change places rather than being made anew. */
+    /** All pictures there are: they change places, so that none is ever made anew. */
     private static final class Shelf {
         Picture older = new Picture();
         Picture newer = new Picture();
@@ -587,7 +585,7 @@ public final class PictureDeck {
 
     /** Turns the levels of one block at a time into samples, or into differences from what is fetched. */
     private static final class Blocks {
-        // Row times eight and column of each place of the zigzag.
+        // Eight times the row, and the column, of each place of the zigzag.
         private static final int[] ZIGZAG = {
             0, 1, 8, 16, 9, 2, 3, 10,
             17, 24, 32, 25, 18, 11, 4, 5,

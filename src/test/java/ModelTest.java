@@ -3,11 +3,13 @@ import java.util.Random;
 /** Long runs of mixed calls, right and wrong ones, answered by the program and by the model alike. */
 public final class ModelTest {
     private static final int RUNS = 1500;
+    private static final int DENSE_RUNS = 400;
     private static final int CALLS = 512;
 
     private final Random random;
     private final Model model = new Model();
     private final PictureDeck deck = new PictureDeck();
+    private final StringBuilder soFar = new StringBuilder();
 
     private ModelTest(long seed) {
         random = new Random(seed);
@@ -15,29 +17,51 @@ public final class ModelTest {
 
     public static void main(String[] args) {
         for (int seed = 1; seed <= RUNS; seed++) {
-            if (!new ModelTest(seed).agrees(seed)) {
-                System.exit(1);
-            }
+            new ModelTest(seed).askMixed(seed % 3 == 0);
         }
-        System.out.println(RUNS + " runs of " + CALLS + " calls, all answered as by the model");
+        for (int seed = 1; seed <= DENSE_RUNS; seed++) {
+            new ModelTest(-seed).askDense();
+        }
+        System.out.println(RUNS + " mixed runs and " + DENSE_RUNS + " dense ones, all answered as by the model");
     }
 
-    private boolean agrees(int seed) {
-        StringBuilder soFar = new StringBuilder();
-        boolean many = seed % 3 == 0;
-        for (int i = 0; i < CALLS; i++) {
-            String call = i == 0 ? "size " + (many ? between(1, 4) : between(1, 2)) + " " + between(1, many ? 3 : 2)
-                    : chosen();
-            String got = Calls.answer(deck, call);
-            String want = model.answer(call);
-            soFar.append(call).append(" -> ").append(want).append('\n');
-            if (!got.equals(want)) {
-                System.out.println("seed " + seed + ", call " + i + ", " + call + ": got " + got + ", the model " + want);
-                System.out.println(soFar);
-                return false;
-            }
+    private void askMixed(boolean large) {
+        ask("size " + between(1, large ? 4 : 2) + " " + between(1, large ? 3 : 2));
+        for (int i = 1; i < CALLS; i++) {
+            ask(chosen());
         }
-        return true;
+    }
+
+    /** One square of large levels, and each sample of it looked at. */
+    private void askDense() {
+        ask("begin " + (random.nextBoolean() ? "1" : "2") + " 1 1 false");
+        ask("scale " + between(1, 31));
+        if (model.answer("told 0").equals("1")) {
+            ask("itself");
+        }
+        for (int i = 0; i < 90; i++) {
+            ask("level " + between(0, 5) + " " + between(0, 63) + " " + between(-40, 40));
+        }
+        ask("square");
+        ask("done");
+        ask("last");
+        for (int i = 0; i < 256; i++) {
+            ask("sample 0 " + i % 16 + " " + i / 16);
+        }
+        for (int i = 0; i < 128; i++) {
+            ask("sample " + (1 + i / 64) + " " + i % 8 + " " + i / 8 % 8);
+        }
+    }
+
+    private void ask(String call) {
+        String got = Calls.answer(deck, call);
+        String want = model.answer(call);
+        soFar.append(call).append(" -> ").append(want).append('\n');
+        if (!got.equals(want)) {
+            System.out.println(soFar);
+            System.out.println("The last call was answered " + got);
+            System.exit(1);
+        }
     }
 
     private String chosen() {
