@@ -36,8 +36,8 @@ public final class PictureDeck {
     private int down;
     private int kind;
     private int made;
-    // NOWHERE before a picture's first square and behind one for itself: leave() refuses both alike.
-    private int directionsBefore;
+    // Of the square made last; NOWHERE before the first one and behind one for itself, as leave() refuses both alike.
+    private int fetchedBy;
 
     public PictureDeck() {
         shelf = new Shelf();
@@ -73,7 +73,7 @@ public final class PictureDeck {
             throw new IllegalStateException("a picture is open");
         }
         this.kind = kind;
-        directionsBefore = NOWHERE;
+        fetchedBy = NOWHERE;
         motion.prepare(forward, backward, whole);
         blocks.prepare();
     }
@@ -143,7 +143,7 @@ public final class PictureDeck {
         }
         if (kind == BY_NEW) {
             motion.rest();
-            directionsBefore = FORWARD;
+            fetchedBy = FORWARD;
         }
         for (int i = 0; i < n; i++) {
             fetchSquare();
@@ -268,12 +268,12 @@ public final class PictureDeck {
     }
 
     private boolean mayLeaveOut() {
-        return !coming.anything && (kind == BY_NEW || kind == BY_BOTH && directionsBefore != NOWHERE);
+        return !coming.anything && (kind == BY_NEW || kind == BY_BOTH && fetchedBy != NOWHERE);
     }
 
     private void makeForItself() {
         motion.rest();
-        directionsBefore = NOWHERE;
+        fetchedBy = NOWHERE;
         for (int block = 0; block < BLOCKS; block++) {
             blocks.turnForItself(coming.levels, block);
             placeBlock(block, false);
@@ -284,7 +284,7 @@ public final class PictureDeck {
         if (coming.directions == NOWHERE) {
             motion.rest();
         }
-        directionsBefore = kind == BY_NEW ? FORWARD : coming.directions;
+        fetchedBy = kind == BY_NEW ? FORWARD : coming.directions;
         fetchSquare();
         for (int block = 0; block < BLOCKS; block++) {
             blocks.turnDifference(coming.levels, block);
@@ -305,11 +305,12 @@ public final class PictureDeck {
     }
 
     private void fetchSquare() {
-        if (directionsBefore != BACKWARD) {
+        boolean forward = (fetchedBy & FORWARD) != 0;
+        if (forward) {
             fetchBy(0, kind == BY_NEW ? shelf.newer : shelf.older, false);
         }
-        if (directionsBefore != FORWARD) {
-            fetchBy(1, shelf.newer, directionsBefore != BACKWARD);
+        if ((fetchedBy & BACKWARD) != 0) {
+            fetchBy(1, shelf.newer, forward);
         }
     }
 
