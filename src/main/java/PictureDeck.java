@@ -350,27 +350,23 @@ public final class PictureDeck {
         return v > most ? most : v;
     }
 
-    /** One plane of a picture, or of what is kept of it; its row of samples is made at most twice. */
+    /** One plane of a picture, or of what is kept of it; its row has room for every size, so that no call makes one. */
     private static final class Plane {
         private final int side;
+        private final int[] samples;
         private int width;
         private int height;
-        private int[] samples;
 
         Plane(int side) {
             this.side = side;
+            samples = new int[side * MOST_ACROSS * side * MOST_DOWN];
             width = side;
             height = side;
-            samples = new int[side * side];
         }
 
         void clear(int w, int h) {
             width = side * w;
             height = side * h;
-            if (width * height > samples.length) {
-                // At once for all shapes: growing step by step would leave too many rows behind.
-                samples = new int[side * MOST_ACROSS * side * MOST_DOWN];
-            }
             Arrays.fill(samples, GREY);
         }
 
