@@ -5,7 +5,7 @@ final class Calls {
 
     static String answer(PictureDeck deck, String call) {
         try {
-            return answerOrThrow(deck, call.split(" +"));
+            return answerOrThrow(deck, call.split(" "));
         } catch (IllegalArgumentException e) {
             return "throws argument";
         } catch (IllegalStateException e) {
