@@ -17,6 +17,7 @@ final class FetchingEdges {
         promise9OutsideOfTheSmallerPlanes();
         promise9OutsideIsOfThePicture();
         promise9WholeCountsTwice();
+        promise9EachDirectionHasItsVector();
         promise9BothDirections();
         promise9KindTwoIsFetchedForward();
         promise9KindThreeByEachDirection();
@@ -202,6 +203,18 @@ final class FetchingEdges {
             .taken("sample 0 0 0 = 100", "sample 0 1 0 = 200", "sample 1 0 0 = 151", "sample 1 1 0 = 201");
         edge.at(Stages.with(whole, Stages.with(new String[] {"vector 0 16 0", "told 4 = -16"}, end)))
             .taken("sample 0 0 0 = 100", "sample 0 15 0 = 100", "sample 1 7 0 = 100");
+    }
+
+    private static void promise9EachDirectionHasItsVector() {
+        String[] both = Stages.with(Stages.flat(10, 20, 30, 40, 1, 2), Stages.flat(110, 120, 130, 140, 3, 4));
+        new Edge(9, "VECTORS, in half samples: x and y of each direction")
+            .at(Stages.with(both, "begin 3 1 1 false"))
+            .taken("vector 0 2 0", "square", "done", "sample 0 7 0 = 20", "sample 0 0 7 = 10", "sample 0 7 8 = 40")
+            .taken("vector 0 0 2", "square", "done", "sample 0 7 0 = 10", "sample 0 0 7 = 30", "sample 0 8 7 = 40")
+            .taken("vector 1 2 0", "square", "done", "sample 0 7 0 = 120", "sample 0 0 7 = 110", "sample 0 7 8 = 140")
+            .taken("vector 1 0 2", "square", "done", "sample 0 7 0 = 110", "sample 0 0 7 = 130", "sample 0 8 7 = 140")
+            .taken("vector 0 2 0", "vector 1 0 2", "square", "done", "sample 0 7 0 = 65", "sample 0 0 7 = 70")
+            .taken("vector 0 0 2", "vector 1 2 0", "square", "done", "sample 0 7 0 = 65", "sample 0 0 7 = 70");
     }
 
     private static void promise9BothDirections() {

@@ -61,14 +61,15 @@ final class LeavingEdges {
     private static void promise10NoneBefore() {
         new Edge(10, "IllegalStateException: with the kind 3 there is none before")
             .at(new String[] {"size 2 2", "begin 3 1 1 false"}, Stages.with(Stages.FULL_3, "done", "begin 3 1 1 false"))
-            .refused("leave 1 ! state", "leave 2 ! state").taken("vector 0 0 0", "square = 1", "leave 1 = 2")
+            .refused("leave 1 ! state", "leave 2 ! state", "leave 0 ! argument", "leave 5 ! argument")
+            .taken("vector 0 0 0", "square = 1", "leave 1 = 2")
             .at(new String[] {"size 2 2", "begin 2 1 1 false"}).taken("leave 1 = 1").taken("leave 4 = 4");
     }
 
     private static void promise10TheOneBeforeIsForItself() {
         String[] itself = {"size 4 1", "begin 3 1 1 false", "vector 0 1 1", "square = 1", "itself", "square = 2"};
         new Edge(10, "IllegalStateException: it is one for itself, with the kind 3")
-            .at(itself).refused("leave 1 ! state", "leave 2 ! state")
+            .at(itself).refused("leave 1 ! state", "leave 2 ! state", "leave 0 ! argument", "leave 3 ! argument")
             .taken("vector 1 1 1", "square = 3", "leave 1 = 4")
             .at(new String[] {"size 4 1", "begin 3 1 1 false", "itself", "square = 1", "vector 1 1 1", "square = 2"})
             // Behind one that is left out, too.
@@ -89,6 +90,11 @@ final class LeavingEdges {
             .taken("vector 0 0 0", "square = 2", "told 4 = -20", "done", "last", "sample 0 25 0 = 100",
                 "sample 0 26 0 = 200", "sample 1 12 0 = 100", "sample 1 13 0 = 200")
             .refused("leave 2 ! argument")
+            // The first square as well, and one behind a square for itself.
+            .at(Stages.with(columns, "done", "begin 2 1 1 false"))
+            .taken("leave 2 = 2", "done", "last", "sample 0 0 0 = 100", "sample 0 31 15 = 200", "sample 2 15 7 = 200")
+            .taken("leave 1 = 1", "itself", "square = 2", "done", "last", "sample 0 15 15 = 100", "sample 0 16 0 = 128")
+            .taken("itself", "square = 1", "leave 1 = 2", "done", "last", "sample 0 0 0 = 128", "sample 0 16 0 = 200")
             .at(new String[] {"size 4 1", "begin 2 2 1 false", "vector 0 5 6", "square", "leave 2 = 3"})
             .taken("vector 0 1 1", "told 4 = 1", "told 5 = 1", "square = 4");
     }

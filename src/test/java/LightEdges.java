@@ -203,8 +203,8 @@ final class LightEdges {
             .taken("light 1 -100.99", "sample 0 0 0 = 0").taken("light 0.5 0.5", "sample 0 0 0 = 50")
             // 0.01 is a little less as a float, but 100 of them are 1 as a float, and less as a double.
             .taken("light 0.01 0", "sample 0 0 0 = 1")
-            // 1000 and 0.00001 are 1000 in floats.
-            .taken("light 10 -900", "light 1 0.000001", "sample 0 0 0 = 100");
+            // A millionth less than 100 is still 100 as a float, ten of them less is not.
+            .taken("light 1 -0.000001", "sample 0 0 0 = 100").taken("light 1 -0.00001", "sample 0 0 0 = 99");
     }
 
     private static void promise15InWhatIsShownAlone() {

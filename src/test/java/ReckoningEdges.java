@@ -211,6 +211,8 @@ final class ReckoningEdges {
         shows(edge, FETCHED, told("level 0 0 5", "level 0 6 2"), "sample 0 2 0 = 129");
         // -1004 * 3 + 128 = -2884 is -11.3 times 256: -12 makes -1, and -11 would make 0.
         shows(edge, FETCHED, told("level 0 1 1"), "sample 0 7 0 = 127", "sample 0 0 0 = 129");
+        // 851 * -91 + 128 = -77313 is one less than -302 times 256: -303 makes -11 in row 5, and -302 would make -10.
+        shows(edge, FETCHED, told("level 0 38 -45"), "sample 0 0 0 = 117");
     }
 
     private static void promise9SecondSumIsRoundedDown() {
@@ -218,6 +220,9 @@ final class ReckoningEdges {
         // t is 1024: 392 * 1024 + 8192 is 25 times 16384, and with one coefficient less it is below that.
         shows(edge, FETCHED, told("level 0 34 130"), "sample 0 0 0 = 153", "sample 0 7 0 = 104");
         shows(edge, FETCHED, told("level 0 34 129"), "sample 0 0 0 = 152", "sample 0 7 0 = 104");
+        // 461 * 3 = 1383 makes t 5111: 569 * 5111 + 8192 is one less than 178 times 16384.
+        shows(edge, Stages.with(Stages.flat(50, 50, 50, 50, 50, 50), FETCHED), told("scale 3", "level 0 33 230"),
+            "sample 0 0 0 = 227");
         // 3 makes 0 and 5 makes 1, -3 makes 0 and -5 makes -1, as -0.1 is rounded down.
         shows(edge, FETCHED, told("level 0 0 1"), "sample 0 0 0 = 128");
         shows(edge, FETCHED, told("level 0 0 2"), "sample 0 0 0 = 129");

@@ -6,9 +6,11 @@ final class Twins {
     private static final int MOST_CALLS = 512;
     private static final int MOST_SQUARES = 12;
     private static final List<List<String>> WAYS = List.of(
-        List.of(), matrices(), reaches(), shown(), references("vector 0 0 0"), references("vector 1 0 0"),
-        finished("begin 2 2 2 false", "square"), finished("begin 3 2 2 true", "vector 0 3 1", "vector 1 1 3", "square"),
-        finished("begin 1 1 1 false", "itself", "level 3 5 40", "square"), leftOut());
+        List.of(), matrices(), reaches(), shown());
+    private static final List<List<String>> WAYS_ON = List.of(
+        finished("square"), finished("vector 0 3 1", "vector 1 1 3", "square"),
+        finished("itself", "level 3 5 40", "square"), leftOut(), references("vector 0 0 0"), references("vector 1 0 0"));
+    private static final List<String> BEGINS = List.of("begin 2 2 2 false", "begin 3 2 2 true");
 
     private Twins() {
     }
@@ -17,9 +19,12 @@ final class Twins {
     static String difference(String[] these, String[] those) {
         List<String> samples = samples(these);
         int room = MOST_CALLS - Math.max(these.length, those.length);
-        for (List<String> way : WAYS) {
+        for (List<String> way : ways(told(these).told(0) != 0)) {
             // A deck answers for so many calls alone: the samples are looked at in parts, each on new decks.
             int part = room - way.size();
+            if (part < 1) {
+                throw new IllegalArgumentException("too many calls to look at what follows");
+            }
             for (int from = 0; from < samples.size(); from += part) {
                 List<String> calls = new ArrayList<>(way);
                 calls.addAll(samples.subList(from, Math.min(from + part, samples.size())));
@@ -30,6 +35,23 @@ final class Twins {
             }
         }
         return "";
+    }
+
+    /** A picture begins only where none is open: a begin that both decks refuse could hide what differs. */
+    private static List<List<String>> ways(boolean open) {
+        List<List<String>> ways = new ArrayList<>(WAYS);
+        if (open) {
+            ways.addAll(WAYS_ON);
+            return ways;
+        }
+        for (String begin : BEGINS) {
+            for (List<String> way : WAYS_ON) {
+                List<String> calls = new ArrayList<>(List.of(begin));
+                calls.addAll(way);
+                ways.add(calls);
+            }
+        }
+        return ways;
     }
 
     private static PictureDeck told(String[] calls) {
@@ -114,7 +136,7 @@ final class Twins {
     }
 
     private static List<String> leftOut() {
-        List<String> calls = new ArrayList<>(List.of("begin 2 2 2 false"));
+        List<String> calls = new ArrayList<>();
         for (int i = 0; i < MOST_SQUARES; i++) {
             calls.add("leave 1");
         }
