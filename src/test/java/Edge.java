@@ -1,27 +1,44 @@
 import java.util.Arrays;
+import java.util.Map;
+import java.util.TreeMap;
 
 /**
- * A boundary case that a sentence of the document names, looked at from both sides: what is still taken, with what it
- * answers and does, and what is refused, which must change nothing. Lines are written as for Script. Each run of them
- * is made on a new deck, once behind each of the edge's stages.
+ * A case that words of the document name, looked at from both sides: what is still taken, with what it answers and
+ * does, and what is refused, which must change nothing. Lines are written as for Script. Each run of them is made on
+ * a new deck, once behind each of the edge's stages.
  */
 final class Edge {
-    private static final int PROMISES = 18;
-    private static final int[] edges = new int[PROMISES + 1];
+    private static final Map<String, Integer> COUNTS = new TreeMap<>();
 
     private final String name;
     private String[][] stages = {Stages.NEW};
 
-    Edge(int promise, String sentence) {
-        edges[promise]++;
-        name = "promise " + promise + ", \"" + sentence + "\"";
+    Edge(int promise, String words) {
+        this(promise, words, "");
     }
 
-    /** Fails too if a promise has no edge at all. */
+    Edge(int promise, String words, String note) {
+        this(Document.promise(promise), words, note);
+    }
+
+    Edge(String section, String words) {
+        this(section, words, "");
+    }
+
+    /** The words stand in that section of the document; the note says which case of them this is. */
+    Edge(String section, String words, String note) {
+        COUNTS.merge(section, 1, Integer::sum);
+        name = section + ", \"" + words + "\"" + (note.isEmpty() ? "" : " (" + note + ")");
+        Script.due(name + " are the document's words", Document.quote(section, words), true);
+    }
+
+    /** Fails too if there are words of the document that no edge has looked at. */
     static void finish() {
-        for (int promise = 1; promise <= PROMISES; promise++) {
-            System.out.println("promise " + promise + ": " + edges[promise] + " boundary cases");
-            Script.due("promise " + promise + " has a boundary case", edges[promise] > 0, true);
+        for (String section : Document.sections()) {
+            int count = COUNTS.getOrDefault(section, 0);
+            System.out.println(section + ": " + count + " cases");
+            Script.due(section + " has a case", count > 0, true);
+            Script.due("words of " + section + " without a case", Document.notQuoted(section), "");
         }
         Script.finish();
     }

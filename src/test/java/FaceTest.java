@@ -8,6 +8,8 @@ import java.util.Collections;
 import java.util.HashSet;
 import java.util.List;
 import java.util.Set;
+import java.util.regex.Matcher;
+import java.util.regex.Pattern;
 
 /** The public face is the document's and nothing more, and the members keep to LANGUAGE.md, rules 1, 5 and 11. */
 public final class FaceTest {
@@ -38,19 +40,26 @@ public final class FaceTest {
         Class<?> face = PictureDeck.class;
         Script.due("the class is public and final", face.getModifiers(), Modifier.PUBLIC | Modifier.FINAL);
         Script.due("constructors", constructors(face), List.of("public 0"));
+        Script.due("what the class is made from", face.getSuperclass(), Object.class);
+        Script.due("what the class implements", face.getInterfaces().length, 0);
         Script.due("methods", publicMethods(face), sorted(Arrays.asList(FACE)));
+        if (Document.isThere()) {
+            Script.due("the document's methods", documentMethods(), sorted(Arrays.asList(FACE)));
+        }
         Set<String> publicNames = new HashSet<>();
         for (Method method : face.getDeclaredMethods()) {
             boolean isPublic = Modifier.isPublic(method.getModifiers());
             Script.due(method + " is public or private", isPublic || Modifier.isPrivate(method.getModifiers()), true);
             if (isPublic) {
                 publicNames.add(method.getName());
+                Script.due(method + " is public and nothing else", method.getModifiers(), Modifier.PUBLIC);
             }
         }
         checkMembers(face, publicNames);
         for (Class<?> inside : face.getDeclaredClasses()) {
             Script.due(inside + " is static", Modifier.isStatic(inside.getModifiers()), true);
-            Script.due(inside + " is not public", Modifier.isPublic(inside.getModifiers()), false);
+            boolean isFace = (inside.getModifiers() & (Modifier.PUBLIC | Modifier.PROTECTED)) != 0;
+            Script.due(inside + " is neither public nor protected", isFace, false);
             checkMembers(inside, publicNames);
         }
         for (Field field : face.getDeclaredFields()) {
@@ -92,6 +101,18 @@ public final class FaceTest {
             if (Modifier.isPublic(method.getModifiers())) {
                 all.add(written(method));
             }
+        }
+        return sorted(all);
+    }
+
+    /** As the document writes them, but without the names of what they take. */
+    private static List<String> documentMethods() {
+        List<String> all = new ArrayList<>();
+        Matcher method = Pattern.compile("public (\\w+ \\w+)\\(([^)]*)\\)(?: throws ([^;]*))?;")
+            .matcher(Document.text(Document.FACE));
+        while (method.find()) {
+            String types = method.group(2).replaceAll("(\\w+) \\w+", "$1");
+            all.add(method.group(1) + "(" + types + ") " + method.group(3).replace(",", ""));
         }
         return sorted(all);
     }

@@ -12,13 +12,17 @@ final class FetchingEdges {
         promise9FourTogether();
         promise9SmallerPlanes();
         promise9SmallerPlanesDownward();
+        termsSmallerPlanesTogether();
         promise9OutsideToTheSides();
         promise9OutsideAboveAndBelow();
         promise9OutsideOfTheSmallerPlanes();
         promise9OutsideIsOfThePicture();
+        termsOutsideOfEachReference();
         promise9WholeCountsTwice();
         promise9EachDirectionHasItsVector();
+        termsVectorsOfTheSmallerPlanes();
         promise9BothDirections();
+        termsBothDirectionsOfHalves();
         promise9KindTwoIsFetchedForward();
         promise9KindThreeByEachDirection();
         promise9ReferencesAtFirst();
@@ -32,7 +36,7 @@ final class FetchingEdges {
     }
 
     private static void promise9HalfTheVectorRoundedDown() {
-        Edge edge = new Edge(9, "the sample as many whole ones away as half the vector, rounded down");
+        Edge edge = new Edge(Document.TERMS, "FETCHED for plane 0: the sample as many whole ones away as half the vector, rounded down");
         String[] quarters = Stages.flat(100, 120, 140, 160, 50, 60);
         fetched(edge, quarters, "0 0", "sample 0 7 7 = 100", "sample 0 8 7 = 120", "sample 0 7 8 = 140");
         fetched(edge, quarters, "1 0", "sample 0 6 0 = 100", "sample 0 7 0 = 110", "sample 0 8 0 = 120");
@@ -49,7 +53,7 @@ final class FetchingEdges {
     }
 
     private static void promise9TwoTogether() {
-        Edge edge = new Edge(9, "if it is odd, that and the next one, both together and 1, by 2 (rounded down)");
+        Edge edge = new Edge(Document.TERMS, "if it is odd, that and the next one, both together and 1, by 2; ... (rounded down)");
         // 200 + 1, 201 + 1, 202 + 1 and 203 + 1.
         fetched(edge, Stages.flat(100, 100, 101, 101, 0, 0), "1 0", "sample 0 7 0 = 100", "sample 0 7 8 = 101");
         fetched(edge, Stages.flat(100, 100, 101, 101, 0, 0), "0 1", "sample 0 0 6 = 100", "sample 0 0 7 = 101");
@@ -59,7 +63,7 @@ final class FetchingEdges {
     }
 
     private static void promise9FourTogether() {
-        Edge edge = new Edge(9, "if both parts are odd, four together and 2, by 4 (rounded down)");
+        Edge edge = new Edge(Document.TERMS, "if both parts are odd, four together and 2, by 4 (rounded down)");
         fetched(edge, Stages.flat(100, 100, 100, 100, 0, 0), "1 1", "sample 0 7 7 = 100");
         fetched(edge, Stages.flat(100, 100, 100, 101, 0, 0), "1 1", "sample 0 7 7 = 100");
         fetched(edge, Stages.flat(100, 100, 101, 101, 0, 0), "1 1", "sample 0 7 7 = 101");
@@ -94,7 +98,7 @@ final class FetchingEdges {
     }
 
     private static void promise9SmallerPlanes() {
-        Edge edge = new Edge(9, "Planes 1 and 2: likewise with the vector by 2, cut off");
+        Edge edge = new Edge(Document.TERMS, "Planes 1 and 2: likewise with the vector by 2, cut off");
         firstFetched(edge, sideBySide(), "1 0", "sample 1 7 0 = 100", "sample 2 7 0 = 50");
         firstFetched(edge, sideBySide(), "2 0", "sample 1 6 0 = 100", "sample 1 7 0 = 151", "sample 2 7 0 = 67");
         firstFetched(edge, sideBySide(), "3 0", "sample 1 6 0 = 100", "sample 1 7 0 = 151", "sample 2 7 0 = 67");
@@ -107,13 +111,110 @@ final class FetchingEdges {
     }
 
     private static void promise9SmallerPlanesDownward() {
-        Edge edge = new Edge(9, "Planes 1 and 2: likewise with the vector by 2, cut off (downward)");
+        Edge edge = new Edge(Document.TERMS, "Planes 1 and 2: likewise with the vector by 2, cut off", "downward");
         firstFetched(edge, oneBelow(), "0 1", "sample 1 0 7 = 100", "sample 2 0 7 = 50");
         firstFetched(edge, oneBelow(), "0 2", "sample 1 0 6 = 100", "sample 1 0 7 = 151", "sample 2 0 7 = 67");
         firstFetched(edge, oneBelow(), "0 4", "sample 1 0 6 = 100", "sample 1 0 7 = 201", "sample 2 0 7 = 83");
         secondFetched(edge, oneBelow(), "0 -1", "sample 1 0 8 = 201", "sample 2 0 8 = 83");
         secondFetched(edge, oneBelow(), "0 -3", "sample 1 0 8 = 151", "sample 1 0 9 = 201", "sample 2 0 8 = 67");
         secondFetched(edge, oneBelow(), "0 -4", "sample 1 0 8 = 100", "sample 1 0 9 = 201", "sample 2 0 8 = 50");
+    }
+
+    private static String[] fourSquares(int first, int right, int below, int last) {
+        return Stages.with(new String[] {"size 2 2", "begin 1 1 1 false"}, Stages.with(
+            Stages.flatSquare(128, 128, 128, 1, 1, 1, 1, first, 255 - first), Stages.with(
+            Stages.flatSquare(1, first, 255 - first, 2, 2, 2, 2, right, 255 - right), Stages.with(
+            Stages.flatSquare(2, right, 255 - right, 3, 3, 3, 3, below, 255 - below), Stages.with(
+            Stages.flatSquare(3, below, 255 - below, 4, 4, 4, 4, last, 255 - last), "done")))));
+    }
+
+    /** The first of four squares is fetched half a sample of planes 1 and 2 down and to the right. */
+    private static void fourTogether(Edge edge, String[] before, int first, int second) {
+        edge.at(Stages.with(before, "begin 2 1 1 false", "vector 0 2 2", "square", "leave 3", "done", "last"))
+            .taken("sample 1 7 7 = " + first, "sample 2 7 7 = " + second);
+    }
+
+    private static void termsSmallerPlanesTogether() {
+        Edge edge = new Edge(Document.TERMS, "Planes 1 and 2: likewise", "two and four together");
+        // 400, 401, 402 and 403, and 2, by 4; plane 2 has what is left of 255: 620, 619, 618 and 617.
+        fourTogether(edge, fourSquares(100, 100, 100, 100), 100, 155);
+        fourTogether(edge, fourSquares(100, 100, 100, 101), 100, 155);
+        fourTogether(edge, fourSquares(100, 100, 101, 101), 101, 155);
+        fourTogether(edge, fourSquares(100, 101, 101, 101), 101, 154);
+        // With one part odd: 201 and 1 by 2; plane 2 has 309.
+        edge.at(Stages.with(fourSquares(100, 101, 101, 90), "begin 2 1 1 false", "vector 0 2 0", "square", "leave 3",
+                "done", "last")).taken("sample 1 7 0 = 101", "sample 2 7 7 = 155", "sample 1 6 0 = 100");
+        edge.at(Stages.with(fourSquares(100, 90, 101, 90), "begin 2 1 1 false", "vector 0 0 2", "square", "leave 3",
+                "done", "last")).taken("sample 1 0 7 = 101", "sample 2 7 7 = 155", "sample 1 0 6 = 100");
+    }
+
+    private static void termsVectorsOfTheSmallerPlanes() {
+        // Both references are alike, so that the vector alone shows.
+        String[] across = Stages.with(sideBySide(), Stages.with(sideBySideAgain(), "begin 3 1 1 false"));
+        String[] below = Stages.with(oneBelow(), Stages.with(sideBySideAgain(), "begin 3 1 1 false"));
+        new Edge(Document.TERMS, "Planes 1 and 2: likewise", "with each direction")
+            .at(across)
+            .taken("vector 0 4 0", "square", "leave 1", "done", "sample 1 6 0 = 100", "sample 1 7 0 = 201",
+                "sample 2 6 0 = 50", "sample 2 7 0 = 83", "sample 2 7 7 = 83")
+            .taken("vector 1 4 0", "square", "leave 1", "done", "sample 1 6 0 = 100", "sample 1 7 0 = 201",
+                "sample 2 6 0 = 50", "sample 2 7 0 = 83", "sample 2 7 7 = 83")
+            .taken("vector 0 0 0", "vector 1 4 0", "square", "leave 1", "done", "sample 1 7 0 = 151", "sample 2 7 0 = 67")
+            .at(below)
+            .taken("vector 0 0 4", "square", "leave 1", "done", "sample 1 0 6 = 100", "sample 1 0 7 = 201",
+                "sample 2 0 6 = 50", "sample 2 0 7 = 83", "sample 2 7 7 = 83")
+            .taken("vector 1 0 4", "square", "leave 1", "done", "sample 1 0 6 = 100", "sample 1 0 7 = 201",
+                "sample 2 0 6 = 50", "sample 2 0 7 = 83", "sample 2 7 7 = 83")
+            .taken("vector 0 0 0", "vector 1 0 4", "square", "leave 1", "done", "sample 1 0 7 = 151", "sample 2 0 7 = 67");
+    }
+
+    /** The same picture once more, all of it left out. */
+    private static String[] sideBySideAgain() {
+        return new String[] {"begin 2 1 1 false", "leave 2", "done"};
+    }
+
+    private static void termsBothDirectionsOfHalves() {
+        // 100 and 101 make 101, 200 and 203 make 202: 303 and 1, by 2. All four together would make 151.
+        new Edge(Document.TERMS, "With both directions: both together and 1, by 2", "behind the halves of each")
+            .at(Stages.with(Stages.flat(100, 101, 100, 101, 1, 1), Stages.with(Stages.flat(200, 203, 200, 203, 1, 1),
+                "begin 3 1 1 false", "vector 0 1 0", "vector 1 1 0")))
+            .taken("square", "done", "sample 0 6 0 = 150", "sample 0 7 0 = 152", "sample 0 8 0 = 152")
+            // And f is added to both together: 93 makes 12.
+            .taken("scale 31", "level 0 0 1", "square", "done", "sample 0 6 0 = 162", "sample 0 7 0 = 164",
+                "sample 0 8 0 = 152");
+    }
+
+    /** Some pictures of w by h squares, each with the samples 10 to 60 in its first one and 11 to 61 in its last. */
+    private static String[] pictures(int w, int h, int count) {
+        String[] between = {"leave " + (w * h - 2)};
+        String[] last = Stages.flatSquare(128, 128, 128, 11, 21, 31, 41, 51, 61);
+        if (w * h == 2) {
+            between = new String[] {};
+            last = Stages.flatSquare(40, 50, 60, 11, 21, 31, 41, 51, 61);
+        }
+        String[] calls = {"size " + w + " " + h};
+        for (int i = 0; i < count; i++) {
+            calls = Stages.with(calls, "begin 2 1 1 false");
+            calls = Stages.with(calls, Stages.flatSquare(128, 128, 128, 10, 20, 30, 40, 50, 60));
+            calls = Stages.with(Stages.with(calls, between), Stages.with(last, "done"));
+        }
+        return calls;
+    }
+
+    private static void termsOutsideOfEachReference() {
+        Edge edge = new Edge(Document.TERMS, "Outside of the picture stand the samples nearest there",
+            "whichever picture became the reference, in pictures longer than high, and higher than long");
+        int[][] sizes = {{2, 1}, {1, 2}, {4, 1}, {1, 3}, {4, 3}, {3, 2}};
+        for (int[] size : sizes) {
+            int rest = size[0] * size[1] - 1;
+            for (int count = 1; count <= 4; count++) {
+                String[] told = Stages.with(pictures(size[0], size[1], count), "begin 2 16 1 false");
+                String[] end = {"square", "leave " + rest, "done", "last"};
+                edge.at(Stages.with(told, Stages.with(new String[] {"vector 0 -256 -256"}, end)))
+                    .taken("sample 0 0 0 = 10", "sample 0 15 15 = 10", "sample 1 7 7 = 50", "sample 2 0 7 = 60");
+                edge.at(Stages.with(told, Stages.with(new String[] {"vector 0 255 255"}, end)))
+                    .taken("sample 0 0 0 = 41", "sample 0 15 15 = 41", "sample 1 0 0 = 51", "sample 2 7 0 = 61");
+            }
+        }
     }
 
     /** A picture whose blocks all slope, from left to right (place 1 of the zigzag) or downward (place 2). */
@@ -135,7 +236,7 @@ final class FetchingEdges {
     }
 
     private static void promise9OutsideToTheSides() {
-        Edge edge = new Edge(9, "Outside of the picture stand the samples nearest there (left and right)");
+        Edge edge = new Edge(Document.TERMS, "Outside of the picture stand the samples nearest there", "left and right");
         fetched(edge, slope(1), "0 0", across(0, 0, 0, 0), across(0, 1, 1, 1), across(0, 14, 6, 6), across(0, 15, 7, 7));
         fetched(edge, slope(1), "1 0", across(0, 14, 6, 7), across(0, 15, 7, 7));
         fetched(edge, slope(1), "2 0", across(0, 13, 6, 6), across(0, 14, 7, 7), across(0, 15, 7, 7));
@@ -152,7 +253,7 @@ final class FetchingEdges {
     }
 
     private static void promise9OutsideAboveAndBelow() {
-        Edge edge = new Edge(9, "Outside of the picture stand the samples nearest there (above and below)");
+        Edge edge = new Edge(Document.TERMS, "Outside of the picture stand the samples nearest there", "above and below");
         fetched(edge, slope(2), "0 0", down(0, 0, 0, 0), down(0, 1, 1, 1), down(0, 14, 6, 6), down(0, 15, 7, 7));
         fetched(edge, slope(2), "0 1", down(0, 14, 6, 7), down(0, 15, 7, 7));
         fetched(edge, slope(2), "0 2", down(0, 13, 6, 6), down(0, 14, 7, 7), down(0, 15, 7, 7));
@@ -166,7 +267,7 @@ final class FetchingEdges {
     }
 
     private static void promise9OutsideOfTheSmallerPlanes() {
-        Edge edge = new Edge(9, "Outside of the picture stand the samples nearest there (planes 1 and 2)");
+        Edge edge = new Edge(Document.TERMS, "Outside of the picture stand the samples nearest there", "planes 1 and 2");
         fetched(edge, slope(1), "2 0", across(1, 6, 6, 7), across(1, 7, 7, 7), across(2, 7, 7, 7));
         fetched(edge, slope(1), "-2 0", across(1, 0, 0, 0), across(1, 1, 0, 1), across(2, 0, 0, 0));
         fetched(edge, slope(1), "28 0", across(1, 0, 7, 7), across(2, 7, 7, 7));
@@ -180,7 +281,7 @@ final class FetchingEdges {
     }
 
     private static void promise9OutsideIsOfThePicture() {
-        Edge edge = new Edge(9, "Outside of the picture: not of the square");
+        Edge edge = new Edge(Document.TERMS, "Outside of the picture", "not of the square");
         firstFetched(edge, sideBySide(), "1 0", "sample 0 14 0 = 100", "sample 0 15 0 = 150", "sample 0 16 0 = 200");
         firstFetched(edge, sideBySide(), "-2 0", "sample 0 0 0 = 100", "sample 0 15 0 = 100");
         secondFetched(edge, sideBySide(), "-1 0", "sample 0 16 0 = 150", "sample 0 17 0 = 200");
@@ -193,7 +294,7 @@ final class FetchingEdges {
         String[] whole = Stages.with(sideBySide(), "begin 2 1 1 true");
         String[] half = Stages.with(sideBySide(), "begin 2 1 1 false");
         String[] end = {"square", "leave 1", "done", "last"};
-        Edge edge = new Edge(9, "If the picture is WHOLE it counts twice when it is used");
+        Edge edge = new Edge(Document.TERMS, "If the picture is WHOLE it counts twice when it is used");
         edge.at(Stages.with(half, Stages.with(new String[] {"vector 0 1 0", "told 4 = 1"}, end)))
             .taken("sample 0 14 0 = 100", "sample 0 15 0 = 150", "sample 1 7 0 = 100");
         edge.at(Stages.with(whole, Stages.with(new String[] {"vector 0 1 0", "told 4 = 1"}, end)))
@@ -207,8 +308,9 @@ final class FetchingEdges {
 
     private static void promise9EachDirectionHasItsVector() {
         String[] both = Stages.with(Stages.flat(10, 20, 30, 40, 1, 2), Stages.flat(110, 120, 130, 140, 3, 4));
-        new Edge(9, "VECTORS, in half samples: x and y of each direction")
+        new Edge(Document.TERMS, "VECTORS, in half samples: x and y of each direction, 0 at first")
             .at(Stages.with(both, "begin 3 1 1 false"))
+            .taken("told 4 = 0", "told 5 = 0", "told 6 = 0", "told 7 = 0")
             .taken("vector 0 2 0", "square", "done", "sample 0 7 0 = 20", "sample 0 0 7 = 10", "sample 0 7 8 = 40")
             .taken("vector 0 0 2", "square", "done", "sample 0 7 0 = 10", "sample 0 0 7 = 30", "sample 0 8 7 = 40")
             .taken("vector 1 2 0", "square", "done", "sample 0 7 0 = 120", "sample 0 0 7 = 110", "sample 0 7 8 = 140")
@@ -218,7 +320,7 @@ final class FetchingEdges {
     }
 
     private static void promise9BothDirections() {
-        Edge edge = new Edge(9, "With both directions: both together and 1, by 2");
+        Edge edge = new Edge(Document.TERMS, "With both directions: both together and 1, by 2");
         String[] both = {"begin 3 1 1 false", "vector 0 0 0", "vector 1 0 0", "square", "done"};
         edge.at(Stages.with(Stages.flat(100, 100, 100, 100, 100, 100),
             Stages.with(Stages.flat(100, 101, 102, 103, 104, 105), both)))
@@ -230,7 +332,7 @@ final class FetchingEdges {
     }
 
     private static void promise9KindTwoIsFetchedForward() {
-        new Edge(9, "A square of the kind 2 that is not for itself is fetched forward, always")
+        new Edge(Document.TERMS, "A square of the kind 2 that is not for itself is fetched forward, always")
             .at(Stages.with(Stages.flat(10, 20, 30, 40, 50, 60), "begin 2 1 1 false"))
             .taken("square = 1", "done = 1", "last = 2", "sample 0 0 0 = 10", "sample 0 15 15 = 40", "sample 2 0 0 = 60")
             .taken("vector 0 2 0", "square = 1", "done = 1", "last = 2", "sample 0 7 0 = 20")
@@ -239,7 +341,7 @@ final class FetchingEdges {
 
     private static void promise9KindThreeByEachDirection() {
         String[] second = Stages.with(Stages.flat(50, 50, 50, 50, 5, 5), "begin 3 1 1 false");
-        new Edge(9, "of the kind 3 by each direction that was told for it")
+        new Edge(Document.TERMS, "of the kind 3 by each direction that was told for it")
             .at(Stages.with(Stages.flat(10, 10, 10, 10, 1, 1), second))
             .taken("vector 0 0 0", "square", "done", "sample 0 0 0 = 10", "sample 1 0 0 = 1")
             .taken("vector 1 0 0", "square", "done", "sample 0 0 0 = 50", "sample 1 0 0 = 5")
@@ -247,7 +349,7 @@ final class FetchingEdges {
             .taken("vector 1 0 0", "vector 1 0 0", "square", "done", "sample 0 0 0 = 50")
             .taken("itself", "square", "done", "sample 0 0 0 = 128");
         // For it, and not for the square before.
-        new Edge(9, "by each direction that was told for it: the square before does not count")
+        new Edge(Document.TERMS, "by each direction that was told for it", "the square before does not count")
             .at(Stages.with(sideBySide(), "begin 1 1 1 false", "itself", "square", "itself", "square", "done",
                 "begin 3 1 1 false", "vector 0 0 0", "vector 1 0 0", "square"))
             .taken("vector 0 0 0", "square", "done", "sample 0 0 0 = 114", "sample 0 16 0 = 200")
@@ -255,7 +357,7 @@ final class FetchingEdges {
     }
 
     private static void promise9ReferencesAtFirst() {
-        new Edge(9, "Two REFERENCES, the OLD and the NEW one, have all samples 128 at first")
+        new Edge(Document.TERMS, "Two REFERENCES, the OLD and the NEW one, have all samples 128 at first")
             .at(new String[] {"begin 3 1 1 false"})
             .taken("vector 0 3 3", "square", "done = 1", "sample 0 0 0 = 128", "sample 1 7 7 = 128", "sample 2 0 7 = 128")
             .taken("vector 1 3 3", "square", "done = 1", "sample 0 15 15 = 128", "sample 1 0 0 = 128")
@@ -273,7 +375,7 @@ final class FetchingEdges {
         String[] backward = {"begin 3 1 1 false", "vector 1 0 0", "square", "done"};
         String[] twoDone = Stages.with(second, "begin 2 1 1 false", "level 0 0 2", "square", "done");
         String[] threeDone = Stages.with(second, "begin 3 1 1 false", "itself", "square", "done");
-        new Edge(11, "When a picture of the kind 1 or 2 is done, the new reference becomes the old one, and it is the new one")
+        new Edge(Document.TERMS, "When a picture of the kind 1 or 2 is done, the new reference becomes the old one, and it is the new one")
             .at(Stages.with(first, forward)).taken("sample 0 0 0 = 128")
             .at(Stages.with(first, backward)).taken("sample 0 0 0 = 10")
             .at(Stages.with(second, forward)).taken("sample 0 0 0 = 10")

@@ -4,6 +4,7 @@ final class LeavingEdges {
     }
 
     static void all() {
+        promise10AreLeftOut();
         promise10HowMany();
         promise10NoneWithoutAnOpenPicture();
         promise10KindOne();
@@ -14,6 +15,29 @@ final class LeavingEdges {
         promise10VectorsOfKindThree();
         promise10Pasts();
         promise10AnswersAsSquare();
+    }
+
+    private static void promise10AreLeftOut() {
+        // The picture before has squares of 10, 20, 30 and 40; the vector fetches each from 8 samples to its right.
+        String[] stage = Stages.with(fourSquares(10), "begin 2 1 1 false");
+        new Edge(10, "So many squares are left out")
+            .at(stage)
+            .taken("leave 1 = 1", "vector 0 15 0", "vector 0 1 0", "vector 0 -16 0", "told 4 = 0", "square = 2",
+                "leave 2 = 4", "done", "last", "sample 0 0 0 = 10", "sample 0 16 0 = 20", "sample 0 32 0 = 30",
+                "sample 0 63 15 = 40")
+            .taken("leave 3 = 3", "itself", "square = 4", "done", "last", "sample 0 0 0 = 10", "sample 0 31 0 = 20",
+                "sample 0 47 15 = 30", "sample 0 48 0 = 128")
+            .taken("itself", "square = 1", "leave 3 = 4", "done", "last", "sample 0 15 15 = 128", "sample 0 16 0 = 20",
+                "sample 0 32 0 = 30", "sample 0 48 0 = 40");
+        // In rows below, too, and with planes 1 and 2.
+        String[] rows = Stages.with(new String[] {"size 1 3", "begin 1 1 1 false"}, Stages.with(
+            Stages.flatSquare(128, 128, 128, 10, 20, 30, 40, 50, 60), Stages.with(
+            Stages.flatSquare(40, 50, 60, 11, 21, 31, 41, 51, 61), Stages.with(
+            Stages.flatSquare(41, 51, 61, 12, 22, 32, 42, 52, 62), "done", "begin 2 1 1 false", "leave 3 = 3", "done",
+            "last"))));
+        new Edge(10, "So many squares are left out", "one below the other")
+            .at(rows).taken("sample 0 0 0 = 10", "sample 0 15 16 = 21", "sample 0 0 47 = 32", "sample 0 15 47 = 42",
+                "sample 1 0 8 = 51", "sample 2 7 23 = 62", "sample 1 7 7 = 50");
     }
 
     private static void promise10HowMany() {
@@ -32,20 +56,20 @@ final class LeavingEdges {
     }
 
     private static void promise10NoneWithoutAnOpenPicture() {
-        new Edge(10, "none without an open picture")
+        new Edge(10, "(none without an open picture). IllegalStateException: no picture is open", "the argument is named first")
             .at(Stages.NONE_OPEN)
             .refused("leave 1 ! argument", "leave 0 ! argument", "leave 2 ! argument", "leave -1 ! argument")
             .taken("begin 2 1 1 false", "leave 1 = 1");
     }
 
     private static void promise10KindOne() {
-        new Edge(10, "IllegalStateException: the kind is 1")
+        new Edge(10, "IllegalStateException: ... the kind is 1")
             .at(Stages.OPEN_1, new String[] {"begin 1 1 1 false"}).refused("leave 1 ! state").taken("itself", "square")
             .at(Stages.OPEN_2, Stages.OPEN_3).taken("leave 1 = 2");
     }
 
     private static void promise10SomethingWasTold() {
-        new Edge(10, "IllegalStateException: something was told for the square to come")
+        new Edge(10, "IllegalStateException: ... something was told for the square to come")
             .at(Stages.with(Stages.OPEN_2, "level 0 0 0"), Stages.with(Stages.OPEN_2, "level 5 63 1"),
                 Stages.with(Stages.OPEN_2, "vector 0 0 0"), Stages.with(Stages.OPEN_2, "itself"),
                 Stages.with(Stages.OPEN_3, "level 0 0 0"), Stages.with(Stages.OPEN_3, "vector 0 0 0"),
@@ -59,7 +83,7 @@ final class LeavingEdges {
     }
 
     private static void promise10NoneBefore() {
-        new Edge(10, "IllegalStateException: with the kind 3 there is none before")
+        new Edge(10, "IllegalStateException: ... with the kind 3 there is none before")
             .at(new String[] {"size 2 2", "begin 3 1 1 false"}, Stages.with(Stages.FULL_3, "done", "begin 3 1 1 false"))
             .refused("leave 1 ! state", "leave 2 ! state", "leave 0 ! argument", "leave 5 ! argument")
             .taken("vector 0 0 0", "square = 1", "leave 1 = 2")
@@ -68,7 +92,7 @@ final class LeavingEdges {
 
     private static void promise10TheOneBeforeIsForItself() {
         String[] itself = {"size 4 1", "begin 3 1 1 false", "vector 0 1 1", "square = 1", "itself", "square = 2"};
-        new Edge(10, "IllegalStateException: it is one for itself, with the kind 3")
+        new Edge(10, "IllegalStateException: ... with the kind 3 ... it is one for itself")
             .at(itself).refused("leave 1 ! state", "leave 2 ! state", "leave 0 ! argument", "leave 3 ! argument")
             .taken("vector 1 1 1", "square = 3", "leave 1 = 4")
             .at(new String[] {"size 4 1", "begin 3 1 1 false", "itself", "square = 1", "vector 1 1 1", "square = 2"})
@@ -114,6 +138,11 @@ final class LeavingEdges {
             .refused("leave 4 ! argument")
             .at(Stages.with(stage, "vector 1 -4 0", "square", "vector 0 2 0", "square"))
             .taken("leave 2 = 4", "done", "sample 0 46 0 = 30", "sample 0 47 0 = 40", "sample 0 63 0 = 40");
+        // Their vectors count twice as well if the picture is whole.
+        new Edge(10, "with the kind 3 as the square before, with its directions and vectors", "in a whole picture")
+            .at(Stages.with(fourSquares(10), Stages.with(fourSquares(110), "begin 3 2 2 true", "vector 0 1 0", "square")))
+            .taken("leave 3 = 4", "done", "sample 0 14 0 = 10", "sample 0 15 0 = 20", "sample 0 46 0 = 30",
+                "sample 0 47 0 = 40");
     }
 
     private static String[] fourSquares(int first) {

@@ -9,6 +9,8 @@ final class LightEdges {
     }
 
     static void all() {
+        promise14RedGreenBlue();
+        promise14FromLeftToRight();
         promise14NoneWasShown();
         promise14Places();
         promise14HalfThePlace();
@@ -26,6 +28,7 @@ final class LightEdges {
         promise17NoneWasKeptSinceSize();
         promise17Differences();
         promise17OneByOne();
+        promise17RowByRow();
     }
 
     private static int mix(int red, int green, int blue) {
@@ -36,6 +39,34 @@ final class LightEdges {
     private static void colour(Edge edge, int y, int p, int q, int red, int green, int blue) {
         edge.at(Stages.with(Stages.flat(y, y, y, y, 128 + p, 128 + q), "last"))
             .taken("colour 0 0 = " + mix(red, green, blue), "colour 15 15 = " + mix(red, green, blue));
+    }
+
+    private static void promise14RedGreenBlue() {
+        Edge edge = new Edge(14, "The colour at a place of plane 0 of the picture that was shown last: 65536 times the red,"
+            + " 256 times the green, and the blue, together. With its sample y, and p and q those of planes 1 and 2 there");
+        // Red 100 + 28.04, green 100 - 3.44 - 14.28, blue 100 + 17.72; then each alone.
+        edge.at(Stages.with(Stages.flat(100, 110, 120, 130, 138, 148), "last"))
+            .taken("colour 0 0 = " + (65536 * 128 + 256 * 82 + 118), "colour 15 0 = " + (65536 * 138 + 256 * 92 + 128),
+                "colour 0 15 = " + (65536 * 148 + 256 * 102 + 138), "colour 15 15 = " + (65536 * 158 + 256 * 112 + 148));
+        colour(edge, 0, 0, 100, 140, 0, 0);
+        colour(edge, 0, -100, 0, 0, 34, 0);
+        colour(edge, 0, 0, -100, 0, 71, 0);
+        colour(edge, 0, 100, 0, 0, 0, 177);
+        // Of what is shown, lit as it is now, and not of the picture that is told, or of the new reference.
+        edge.at(Stages.with(SHOWN, Stages.with(Stages.flat(200, 200, 200, 200, 128, 128), "light 0 50")))
+            .taken("colour 3 3 = " + mix(0, 184, 0), "begin 3 1 1 false", "itself", "square", "colour 3 3 = " + mix(0, 184, 0),
+                "done", "colour 3 3 = " + mix(128, 128, 128), "last", "colour 3 3 = " + mix(200, 200, 200));
+        // To look at it changes nothing.
+        edge.at(Stages.CLOSED, Stages.OPEN_2, Stages.TOLD_3, Stages.FULL_1)
+            .same(new String[] {}, new String[] {"colour 0 0", "colour 31 15"});
+    }
+
+    private static void promise14FromLeftToRight() {
+        Edge edge = new Edge(14, "as floats, 128 less both: ... from left to right, all in floats");
+        // In doubles the green would be 19; from right to left, or with both taken together first, 221 and 237.
+        colour(edge, 0, 50, -50, 0, 18, 89);
+        colour(edge, 239, -50, 50, 255, 220, 150);
+        colour(edge, 255, -50, 50, 255, 236, 166);
     }
 
     private static void promise14NoneWasShown() {
@@ -87,7 +118,7 @@ final class LightEdges {
     }
 
     private static void promise14Red() {
-        Edge edge = new Edge(14, "red y + 1.402 q .. not below 0, nor above 255");
+        Edge edge = new Edge(14, "red y + 1.402 q; ... not below 0, nor above 255");
         // 254.402, 255.402 and 256.402; then -1.402, -0.402, 0.598.
         colour(edge, 253, 0, 1, 254, 252, 253);
         colour(edge, 254, 0, 1, 255, 253, 254);
@@ -100,7 +131,7 @@ final class LightEdges {
     }
 
     private static void promise14Green() {
-        Edge edge = new Edge(14, "green y - 0.344136 p - 0.714136 q .. not below 0, nor above 255");
+        Edge edge = new Edge(14, "green y - 0.344136 p - 0.714136 q; ... not below 0, nor above 255");
         // 253.688, 254.688, 255.688; then -0.344, -0.688, -1.721 and 0.656.
         colour(edge, 253, -2, 0, 253, 254, 249);
         colour(edge, 254, -2, 0, 254, 255, 250);
@@ -114,7 +145,7 @@ final class LightEdges {
     }
 
     private static void promise14Blue() {
-        Edge edge = new Edge(14, "blue y + 1.772 p .. not below 0, nor above 255");
+        Edge edge = new Edge(14, "blue y + 1.772 p, ... not below 0, nor above 255");
         // 253.772, 254.772, 255.772; then -1.772, -0.772, 0.228 and 1.228.
         colour(edge, 252, 1, 0, 252, 252, 254);
         colour(edge, 253, 1, 0, 253, 253, 255);
@@ -166,7 +197,7 @@ final class LightEdges {
             "light 1 Infinity ! argument", "light 1 -Infinity ! argument", "light 0 3.4028235E38 ! argument",
             "light NaN NaN ! argument", "light 1000 100001 ! argument",
         };
-        new Edge(15, "IllegalArgumentException: offset not -100000 to 100000")
+        new Edge(15, "IllegalArgumentException: ... offset not -100000 to 100000")
             .at(SHOWN)
             .taken("light -999 100000", "sample 0 0 0 = 100", "sample 1 0 0 = 1")
             .taken("light 1000 -100000", "sample 0 0 0 = 0").taken("light 1000 -99999", "sample 0 0 0 = 1")
@@ -204,12 +235,16 @@ final class LightEdges {
             // 0.01 is a little less as a float, but 100 of them are 1 as a float, and less as a double.
             .taken("light 0.01 0", "sample 0 0 0 = 1")
             // A millionth less than 100 is still 100 as a float, ten of them less is not.
-            .taken("light 1 -0.000001", "sample 0 0 0 = 100").taken("light 1 -0.00001", "sample 0 0 0 = 99");
+            .taken("light 1 -0.000001", "sample 0 0 0 = 100").taken("light 1 -0.00001", "sample 0 0 0 = 99")
+            // The product is a float, too: 202 times -10.7 and 2169.4 would be less than 8 if it were cut off but once.
+            .at(Stages.with(Stages.flat(202, 170, 145, 220, 1, 1), "last"))
+            .taken("light -10.7 2169.4", "sample 0 0 0 = 8").taken("light -43.84 7487.8", "sample 0 8 0 = 35")
+            .taken("light -366.12 53232.4", "sample 0 0 8 = 145").taken("light 305.02 -67071.4", "sample 0 8 8 = 33");
     }
 
     private static void promise15InWhatIsShownAlone() {
         String[] lit = Stages.with(SHOWN, "light 0 7");
-        new Edge(15, "All samples v of plane 0 (in what is shown alone)")
+        new Edge(15, "All samples v of plane 0 of the picture that was shown last become ... (in what is shown alone)")
             .at(lit).taken("sample 0 0 0 = 7", "sample 0 15 0 = 7", "sample 0 0 15 = 7", "sample 0 15 15 = 7",
                 "sample 1 0 0 = 1", "sample 2 7 7 = 1")
             .taken("begin 2 1 1 false", "square", "done = 1", "sample 0 0 0 = 7", "last = 2", "sample 0 0 0 = 100")
@@ -227,7 +262,7 @@ final class LightEdges {
 
     private static void promise17NoneWasKeptSinceSize() {
         String[] again = Stages.with(SHOWN, Stages.with(new String[] {"keep", "size 1 1"}, SHOWN));
-        new Edge(17, "IllegalStateException: none was kept since size()")
+        new Edge(17, "IllegalStateException: none was ... kept since size()")
             .at(SHOWN, again).refused("error ! state").taken("keep", "error = 0.0", "light 1 2", "error = 4.0")
             // A size that is refused is none.
             .at(Stages.with(SHOWN, "keep")).taken("size 5 1 ! argument", "error = 0.0");
@@ -235,12 +270,15 @@ final class LightEdges {
 
     private static void promise17Differences() {
         String[] kept = Stages.with(SHOWN, "keep");
-        new Edge(17, "each times itself, and by their number")
+        new Edge(17, "The differences of all samples of plane 0 of the picture shown last and the one that is kept, each times"
+            + " itself, ... and by their number (a float)")
             .at(kept).taken("error = 0.0").taken("light 1 1", "error = 1.0").taken("light 1 -1", "error = 1.0")
             .taken("light 0 0", "error = 10000.0").taken("light 0 255", "error = 24025.0")
             // One block of four differs by 1; planes 1 and 2 do not count.
             .at(Stages.with(kept, Stages.with(Stages.flat(100, 100, 100, 101, 90, 90), "last"))).taken("error = 0.25")
-            .at(Stages.with(kept, Stages.with(Stages.flat(100, 100, 100, 100, 90, 90), "last"))).taken("error = 0.0");
+            .at(Stages.with(kept, Stages.with(Stages.flat(100, 100, 100, 100, 90, 90), "last"))).taken("error = 0.0")
+            // To ask for it changes nothing.
+            .at(Stages.CLOSED, Stages.OPEN_2, Stages.TOLD_3, Stages.FULL_1).same(new String[] {}, new String[] {"error"});
     }
 
     private static void promise17OneByOne() {
@@ -248,5 +286,20 @@ final class LightEdges {
         new Edge(17, "as floats added one by one")
             .at(new String[] {"size 4 3", "begin 2 1 1 false", "leave 12", "done", "last", "light 0 0", "keep"})
             .taken("light 0 254", "error = 64513.35546875").taken("light 0 100", "error = 10000.0");
+    }
+
+    private static void promise17RowByRow() {
+        // Against a kept picture of 0; the sum is more than a float holds to the last place, so its order shows: column
+        // by column it would be 17293.8984375, square by square 17293.6640625, from the last row on 17294.123046875.
+        String[] calls = {
+            "size 3 2", "begin 2 1 1 false", "leave 6", "done = 0", "last = 1", "light 0 0", "keep", "begin 1 1 1 false",
+        };
+        int past = 128;
+        for (int sample : new int[] {123, 227, 149, 115, 41, 1}) {
+            calls = Stages.with(calls, "itself", "level 0 0 " + (sample - past), "square");
+            past = sample;
+        }
+        new Edge(17, "as floats added one by one, row by row").at(calls)
+            .taken("done = 1", "last = 2", "error = 17293.701171875");
     }
 }

@@ -292,7 +292,7 @@ final class Model {
         return clamp(product < 0 ? -size : size, -2048, 2047);
     }
 
-    private static long cosine(int u, int x) {
+    static long cosine(int u, int x) {
         return u == 0 ? 724 : place((2 * x + 1) * u % 32);
     }
 
@@ -303,7 +303,8 @@ final class Model {
         return p <= 16 ? -place(16 - p) : place(32 - p);
     }
 
-    private static int[][] samples(long[][] big) {
+    /** The samples f of a block from its coefficients. */
+    static int[][] samples(long[][] big) {
         long[][] t = new long[8][8];
         int[][] f = new int[8][8];
         for (int v = 0; v < 8; v++) {

@@ -35,7 +35,7 @@ final class ReckoningEdges {
     }
 
     private static void promise9CutOff() {
-        Edge edge = new Edge(9, "2 times the level, times the SCALE, times the number of MATRIX 0 there, by 16, cut off");
+        Edge edge = new Edge(Document.TERMS, "2 times the level, times the SCALE, times the number of MATRIX 0 there, by 16, cut off");
         // 2 * 8 * 61 / 16 = 61; 2 * 6 * 81 / 16 = 60.75, cut off 60, made 59.
         shows(edge, ITSELF, told("matrix 0 1 61", "level 0 1 8"), "sample 0 0 0 = 139", "sample 0 7 0 = 117");
         shows(edge, ITSELF, told("matrix 0 1 81", "level 0 1 6"), "sample 0 0 0 = 138", "sample 0 7 0 = 118");
@@ -47,7 +47,7 @@ final class ReckoningEdges {
     }
 
     private static void promise9MadeOdd() {
-        Edge edge = new Edge(9, "made odd, if it is even and not 0, by one toward 0");
+        Edge edge = new Edge(Document.TERMS, "made odd, if it is even and not 0, by one toward 0");
         // 2 * 30 = 60 becomes 59, 2 * 8 * 61 / 16 = 61 stays, 2 * 31 = 62 becomes 61.
         shows(edge, ITSELF, told("level 0 1 30"), "sample 0 0 0 = 138", "sample 0 7 0 = 118");
         shows(edge, ITSELF, told("matrix 0 1 61", "level 0 1 8"), "sample 0 0 0 = 139", "sample 0 7 0 = 117");
@@ -70,7 +70,7 @@ final class ReckoningEdges {
     }
 
     private static void promise9ZeroIsNotMadeOdd() {
-        Edge edge = new Edge(9, "made odd, if it is even and not 0");
+        Edge edge = new Edge(Document.TERMS, "made odd, if it is even and not 0");
         // 2 * 7 / 16 is cut off to 0, and 2 * 8 / 16 is 1: everywhere in a block, so that it shows.
         shows(edge, ITSELF, everywhere(7, 1), "sample 0 0 0 = 128", "sample 0 1 0 = 128", "sample 0 2 0 = 128");
         shows(edge, ITSELF, everywhere(7, -1), "sample 0 0 0 = 128", "sample 0 1 0 = 128", "sample 0 2 0 = 128");
@@ -80,7 +80,7 @@ final class ReckoningEdges {
     }
 
     private static void promise9CoefficientNotAbove() {
-        Edge edge = new Edge(9, "nor above 2047");
+        Edge edge = new Edge(Document.TERMS, "nor above 2047");
         // At row 7, column 7: 2046 would make 183 at (6, 0), and 2048 148 at (0, 0).
         // 2 * 125 * 131 / 16 = 2046.9, made 2045; 2 * 127 * 129 / 16 = 2047.9; 2 * 82 * 200 / 16 = 2050, made 2049.
         shows(edge, ITSELF, told("matrix 0 63 131", "level 0 63 125"), "sample 0 0 0 = 147", "sample 0 6 0 = 183");
@@ -91,7 +91,7 @@ final class ReckoningEdges {
     }
 
     private static void promise9CoefficientNotBelow() {
-        Edge edge = new Edge(9, "not below -2048");
+        Edge edge = new Edge(Document.TERMS, "not below -2048");
         // At (7, 0), -2047 makes 147 with the past 1024, -2048 148; with the past 760 it is -2049 that makes one more.
         String[] last = {"matrix 0 63 129", "level 0 63 -127"};
         String[] next = {"matrix 0 63 200", "level 0 63 -82"};
@@ -106,7 +106,8 @@ final class ReckoningEdges {
     }
 
     private static void promise9FirstCoefficientIsNotScaled() {
-        Edge edge = new Edge(9, "of each block the coefficient at row 0, column 0 is the PAST of its plane. The others: ..");
+        Edge edge = new Edge(Document.TERMS, "A square for itself: of each block the coefficient at row 0, column 0 is the PAST of its"
+            + " plane, ... The others:");
         // Place 0 is the past, whatever the scale and the matrix; place 1 is scaled: 2 * 1 * 31 * 16 / 16 = 62, made 61.
         String[] loud = Stages.with(ITSELF, "matrix 0 0 255", "scale 31");
         shows(edge, loud, told("level 0 0 1"), "told 8 = 1032", "sample 0 0 0 = 129", "sample 0 7 0 = 129");
@@ -114,7 +115,7 @@ final class ReckoningEdges {
     }
 
     private static void promise9OneMoreOneLess() {
-        Edge edge = new Edge(9, "2 times the level, and 1 more if that is above 0, 1 less if below (0 stays 0)");
+        Edge edge = new Edge(Document.TERMS, "2 times the level, and 1 more if that is above 0, 1 less if below (0 stays 0)");
         // 3 and -3 at row 0, column 1 change the first and the last sample of a row, 0 changes none.
         shows(edge, FETCHED, told("level 0 1 1"), "sample 0 0 0 = 129", "sample 0 1 0 = 128", "sample 0 7 0 = 127");
         shows(edge, FETCHED, told("level 0 1 -1"), "sample 0 0 0 = 127", "sample 0 1 0 = 128", "sample 0 7 0 = 129");
@@ -128,7 +129,7 @@ final class ReckoningEdges {
     }
 
     private static void promise9OthersAreCutOffAndMadeOdd() {
-        Edge edge = new Edge(9, "Another square: each coefficient so with matrix 1");
+        Edge edge = new Edge(Document.TERMS, "Another square: each coefficient so with matrix 1");
         // 3 * 22 / 16 = 4.1, cut off 4, made 3; 3 * 27 / 16 = 5.06, cut off 5; 3 * 26 / 16 = 4.9, made 3.
         shows(edge, FETCHED, told("matrix 1 1 22", "level 0 1 1"), "sample 0 0 0 = 129", "sample 0 1 0 = 128");
         shows(edge, FETCHED, told("matrix 1 1 26", "level 0 1 1"), "sample 0 0 0 = 129", "sample 0 1 0 = 128");
@@ -143,7 +144,7 @@ final class ReckoningEdges {
     }
 
     private static void promise9OthersAreHeld() {
-        Edge edge = new Edge(9, "Another square: each coefficient so (not below -2048, nor above 2047)");
+        Edge edge = new Edge(Document.TERMS, "Another square: each coefficient so", "not below -2048, nor above 2047");
         // At row 1, column 1: 131 * 250 / 16 = 2046.9, made 2045; 201 * 163 / 16 = 2047.7.
         shows(edge, FETCHED, told("matrix 1 9 250", "level 0 4 65"), "sample 0 3 2 = 183");
         shows(edge, FETCHED, told("matrix 1 9 163", "level 0 4 100"), "sample 0 3 2 = 184");
@@ -164,7 +165,7 @@ final class ReckoningEdges {
     }
 
     private static void promise9Zigzag() {
-        Edge edge = new Edge(9, "the ZIGZAG: by rows downward if it is odd, else upward");
+        Edge edge = new Edge(Document.TERMS, "the ZIGZAG: ... by rows downward if it is odd, else upward");
         // Rows and columns 0 1, 1 0; 2 0, 1 1, 0 2: the first two of its lines, where it turns round.
         place(edge, 1, 172, 84, 172, 165);
         place(edge, 2, 172, 172, 84, 137);
@@ -194,7 +195,7 @@ final class ReckoningEdges {
     }
 
     private static void promise9WaveGoesRound() {
-        Edge edge = new Edge(9, "which goes round by 32: 9 .. 16: less than 0, as 16 - p; 17 .. 31: as 32 - p");
+        Edge edge = new Edge(Document.TERMS, "which goes round by 32: ... 9 .. 16: less than 0, as 16 - p; 17 .. 31: as 32 - p");
         // Places 1 to 15, then 2 to 30, and from u = 3 on more than 31: 33 is 1, 35 is 3, up to 105, which is 9.
         wave(edge, 1, 2, 172, 165, 153, 137, 119, 103, 91, 84);
         wave(edge, 5, 3, 170, 145, 111, 86, 86, 111, 145, 170);
@@ -206,7 +207,7 @@ final class ReckoningEdges {
     }
 
     private static void promise9FirstSumIsRoundedDown() {
-        Edge edge = new Edge(9, "t(v, x) is the sum .., and 128, by 256 (rounded down)");
+        Edge edge = new Edge(Document.TERMS, "t(v, x) is the sum ... and 128, by 256; ... (rounded down, both)");
         // 724 * 11 - 1004 * 5 + 128 = 3072 is 12 times 256: 12 makes 1, and 11 would make 0.
         shows(edge, FETCHED, told("level 0 0 5", "level 0 6 2"), "sample 0 2 0 = 129");
         // -1004 * 3 + 128 = -2884 is -11.3 times 256: -12 makes -1, and -11 would make 0.
@@ -216,7 +217,7 @@ final class ReckoningEdges {
     }
 
     private static void promise9SecondSumIsRoundedDown() {
-        Edge edge = new Edge(9, "f(y, x) the sum .., and 8192, by 16384 (rounded down)");
+        Edge edge = new Edge(Document.TERMS, "f(y, x) the sum ... and 8192, by 16384 (rounded down, both)");
         // t is 1024: 392 * 1024 + 8192 is 25 times 16384, and with one coefficient less it is below that.
         shows(edge, FETCHED, told("level 0 34 130"), "sample 0 0 0 = 153", "sample 0 7 0 = 104");
         shows(edge, FETCHED, told("level 0 34 129"), "sample 0 0 0 = 152", "sample 0 7 0 = 104");
@@ -231,7 +232,7 @@ final class ReckoningEdges {
     }
 
     private static void promise9SamplesForItselfAreHeld() {
-        Edge edge = new Edge(9, "A square for itself has the f, each not below 0, nor above 255");
+        Edge edge = new Edge(Document.TERMS, "A square for itself has the f, ... each not below 0, nor above 255");
         // The level 3 makes 6, made 5: one more at the left end of a row, one less (or two) at its right end.
         shows(edge, ITSELF, told("level 0 0 126", "level 0 1 3"), "sample 0 0 0 = 255", "sample 0 7 0 = 253");
         shows(edge, ITSELF, told("level 0 0 127", "level 0 1 3"), "sample 0 0 0 = 255", "sample 0 7 0 = 254");
@@ -242,7 +243,7 @@ final class ReckoningEdges {
     }
 
     private static void promise9SumsAreHeld() {
-        Edge edge = new Edge(9, "others the sum of f and what is fetched, each not below 0, nor above 255");
+        Edge edge = new Edge(Document.TERMS, "others the sum of f and what is fetched, each not below 0, nor above 255");
         // The level 1 makes 3: one more at the left end of a row, one less at its right end.
         String[] ends = {"level 0 1 1", "level 1 1 1", "level 2 1 1", "level 3 1 1", "level 4 1 1", "level 5 1 1"};
         shows(edge, Stages.with(Stages.flat(254, 255, 1, 0, 255, 0), FETCHED), ends,

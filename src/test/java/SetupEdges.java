@@ -9,6 +9,7 @@ final class SetupEdges {
     static void all() {
         promise1NewIsAsSizeOneOne();
         promise1HasOneSquare();
+        promise2SquaresOfPictures();
         promise2Width();
         promise2Height();
         promise2WidthAndHeight();
@@ -21,6 +22,7 @@ final class SetupEdges {
         promise3Number();
         promise3RowsOfEight();
         promise3HasNoState();
+        promise3NumbersStay();
     }
 
     private static void promise1NewIsAsSizeOneOne() {
@@ -34,7 +36,7 @@ final class SetupEdges {
     }
 
     private static void promise1HasOneSquare() {
-        new Edge(1, "As size(1, 1): the first square is the last")
+        new Edge(1, "As size(1, 1)", "the first square is the last")
             .at(new String[] {"begin 2 1 1 false"}).taken("leave 1 = 1", "told 1 = 1").refused("leave 2 ! argument")
             .at(new String[] {"begin 2 1 1 false", "square = 1"}).taken("done = 0").refused("square ! state")
             .at(new String[] {"begin 2 1 1 false", "square = 1", "done = 0", "last = 1"})
@@ -57,6 +59,15 @@ final class SetupEdges {
         };
     }
 
+    private static void promise2SquaresOfPictures() {
+        Edge edge = new Edge(2, "Pictures have w by h squares");
+        for (int w = 1; w <= 4; w++) {
+            for (int h = 1; h <= 3; h++) {
+                edge.taken(hasSize(w, h));
+            }
+        }
+    }
+
     private static void promise2Width() {
         new Edge(2, "IllegalArgumentException: w is not 1 to 4")
             .at(Stages.ALL).taken(hasSize(1, 2)).taken(hasSize(4, 2))
@@ -65,7 +76,7 @@ final class SetupEdges {
     }
 
     private static void promise2Height() {
-        new Edge(2, "IllegalArgumentException: h not 1 to 3")
+        new Edge(2, "IllegalArgumentException: ... h not 1 to 3")
             .at(Stages.ALL).taken(hasSize(2, 1)).taken(hasSize(2, 3))
             .refused("size 2 0 ! argument", "size 2 4 ! argument", "size 2 -1 ! argument",
                 "size 2 " + LEAST + " ! argument", "size 2 " + MOST + " ! argument");
@@ -100,7 +111,7 @@ final class SetupEdges {
 
     private static void promise2AllBeginsAnew() {
         new Edge(2, "all begins anew").at(Stages.ALL).sameAsNew("size 1 1").sameAsNew("size 2 1");
-        new Edge(2, "all begins anew, from the largest size to the smallest and back")
+        new Edge(2, "all begins anew", "from the largest size to the smallest and back")
             .at(new String[] {"size 4 3", "begin 1 1 1 false", "itself", "level 0 0 99", "square", "itself", "square"})
             .sameAsNew("size 1 1").sameAsNew("size 4 3").sameAsNew("size 3 2");
     }
@@ -130,7 +141,7 @@ final class SetupEdges {
     }
 
     private static void promise3Place() {
-        new Edge(3, "IllegalArgumentException: there is no such place")
+        new Edge(3, "IllegalArgumentException: there is no such ... place")
             .taken("matrix 0 0 33 = 8", "matrix 0 63 34 = 16", "matrix 1 0 35 = 16", "matrix 1 63 36 = 16",
                 "matrix 0 0 1 = 33", "matrix 0 63 1 = 34", "matrix 1 0 1 = 35", "matrix 1 63 1 = 36")
             .at(Stages.ALL)
@@ -141,7 +152,7 @@ final class SetupEdges {
     }
 
     private static void promise3Number() {
-        new Edge(3, "IllegalArgumentException: v is not 1 to 255")
+        new Edge(3, "IllegalArgumentException: ... v is not 1 to 255")
             .at(Stages.ALL)
             .taken("matrix 0 5 1 = 16", "matrix 0 5 255 = 1", "matrix 0 5 1 = 255", "matrix 1 5 255 = 16",
                 "matrix 1 5 1 = 255", "matrix 1 5 16 = 1")
@@ -156,20 +167,33 @@ final class SetupEdges {
         String[] end = {"itself", "square = 1", "done = 0", "last = 1"};
         String[] last = Stages.with(new String[] {"begin 1 1 1 false", "level 0 28 20"}, end);
         String[] next = Stages.with(new String[] {"begin 1 1 1 false", "level 0 2 20"}, end);
-        new Edge(3, "row i / 8, column i modulo 8")
+        new Edge(3, "(0 or 1) at row i / 8, column i modulo 8")
             .at(Stages.with(new String[] {"matrix 0 7 255"}, last)).taken("sample 0 0 0 = 150")
             .at(Stages.with(new String[] {"matrix 0 8 255"}, last)).taken("sample 0 0 0 = 129")
             .at(Stages.with(new String[] {"matrix 0 8 255"}, next)).taken("sample 0 0 0 = 238")
-            .at(Stages.with(new String[] {"matrix 0 7 255"}, next)).taken("sample 0 0 0 = 135");
+            .at(Stages.with(new String[] {"matrix 0 7 255"}, next)).taken("sample 0 0 0 = 135")
+            // The other matrix has places of its own, which do not count here.
+            .at(Stages.with(new String[] {"matrix 1 7 255"}, last)).taken("sample 0 0 0 = 129");
     }
 
     private static void promise3HasNoState() {
         // The number may change while a picture is open: it counts as it stands when the square is made.
-        new Edge(3, "The number of a matrix becomes v. Answers what it was")
+        new Edge(3, "The number of a matrix ... becomes v. Answers what it was")
             .at(new String[] {"begin 1 1 1 false", "itself", "level 0 28 20"})
             .taken("matrix 0 7 255 = 16", "square = 1", "matrix 0 7 16 = 255", "done = 0", "last = 1",
                 "sample 0 0 0 = 150")
             .taken("matrix 0 7 256 ! argument", "matrix 0 64 255 ! argument", "matrix 2 7 255 ! argument",
                 "square = 1", "done = 0", "last = 1", "sample 0 0 0 = 129");
+    }
+
+    private static void promise3NumbersStay() {
+        // Whatever comes behind, but for size().
+        new Edge(3, "The number of a matrix ... becomes v", "and stays so")
+            .at(allMatrices(8, 16, 99)).taken(Stages.with(new String[] {
+                "begin 1 2 2 true", "scale 9", "itself", "level 0 5 9", "square", "done", "last",
+                "begin 2 2 2 false", "vector 0 1 1", "level 0 5 9", "square", "done", "begin 2 1 1 false", "leave 1", "done",
+                "begin 3 2 2 false", "vector 1 1 1", "square", "done", "begin 3 1 1 false", "itself", "square", "done",
+                "keep", "light 1 1", "error", "sample 0 0 0", "colour 0 0", "told 0", "size 5 1 ! argument",
+            }, allMatrices(99, 99, 98)));
     }
 }

@@ -9,23 +9,36 @@ final class ShowingEdges {
     }
 
     static void all() {
+        promise11IsDone();
         promise11NoneIsOpen();
         promise11SquaresAreMissing();
         promise11AnswersHowManyWereShown();
         promise11IfItCameOfAPicture();
         promise11EachIsShownOnce();
+        promise12NoPictureComes();
         promise12PictureIsOpen();
         promise12IfItCameOfAPicture();
         promise12WasNotYetShown();
+        promise13OfThePictureShownLast();
         promise13NoneWasShown();
         promise13Planes();
         promise13Places();
         promise16NoneWasShown();
         promise16AsItIsNow();
+        promise18VectorsAndPasts();
         promise18What();
         promise18WithoutAPicture();
         promise18Counts();
         allCallsOfAnObject();
+    }
+
+    private static void promise11IsDone() {
+        new Edge(11, "The picture is done")
+            .at(Stages.FULL_1).taken("told 0 = 1", "told 2 = 2", "done", "told 0 = 0", "told 1 = 0", "told 2 = 3")
+            .at(Stages.FULL_2).taken("told 0 = 2", "told 2 = 2", "done", "told 0 = 0", "told 1 = 0", "told 2 = 3")
+            .at(Stages.FULL_3).taken("told 0 = 3", "told 2 = 2", "done", "told 0 = 0", "told 1 = 0", "told 2 = 3",
+                // Vectors and pasts stay as they are until something changes them.
+                "told 4 = 4", "told 5 = -1", "told 6 = 4", "told 7 = 5", "begin 1 1 1 false", "told 0 = 1");
     }
 
     private static void promise11NoneIsOpen() {
@@ -36,7 +49,7 @@ final class ShowingEdges {
     }
 
     private static void promise11SquaresAreMissing() {
-        new Edge(11, "IllegalStateException: squares are missing")
+        new Edge(11, "IllegalStateException: ... squares are missing")
             .at(Stages.OPEN_1, Stages.OPEN_2, Stages.OPEN_3, Stages.TOLD_1, Stages.TOLD_2, Stages.TOLD_3)
             .refused("done ! state")
             .at(Stages.TOLD_1, Stages.TOLD_2, Stages.TOLD_3).taken("square = 2", "done = 2")
@@ -54,7 +67,7 @@ final class ShowingEdges {
     }
 
     private static void promise11IfItCameOfAPicture() {
-        new Edge(11, "the one that was the new reference before, if it came of a picture")
+        new Edge(Document.TERMS, "of the others, the one that was the new reference before, if it came of a picture")
             // Nothing is shown with the first one, whichever of the two kinds it has.
             .at(FIRST).taken("told 2 = 1", "told 3 = 0").refused("sample 0 0 0 ! state", "keep ! state")
             .at(new String[] {"begin 2 1 1 false", "square", "done = 0"}).refused("sample 0 0 0 ! state")
@@ -68,7 +81,7 @@ final class ShowingEdges {
     }
 
     private static void promise11EachIsShownOnce() {
-        new Edge(11, "each is shown once")
+        new Edge(Document.TERMS, "(each is shown once)")
             // Shown by last() already, the reference is not shown again when the next picture is done.
             .at(Stages.with(FIRST, "last = 1"))
             .taken(Stages.with(new String[] {"light 0 77"}, Stages.with(Stages.flat(20, 20, 20, 20, 3, 4),
@@ -76,6 +89,18 @@ final class ShowingEdges {
             .at(FIRST)
             .taken(Stages.with(new String[] {"told 3 = 0"}, Stages.with(Stages.flat(20, 20, 20, 20, 3, 4),
                 "told 3 = 1", "sample 0 0 0 = 10", "last = 2", "sample 0 0 0 = 20", "last = 2")));
+    }
+
+    private static void promise12NoPictureComes() {
+        String[] moved = Stages.with(SECOND, "keep", "matrix 0 5 77", "begin 2 2 1 false", "vector 0 7 -8", "square", "done = 2");
+        String[] grown = Stages.with(FIRST, "begin 1 1 1 false", "itself", "level 0 0 1", "level 4 0 2", "level 5 0 3",
+            "square", "done = 1");
+        new Edge(12, "No picture comes any more: the new reference is shown, ... Answers as done()")
+            .at(SECOND).taken("told 3 = 1", "last = 2", "told 3 = 2", "sample 0 0 0 = 20", "sample 1 0 0 = 3")
+            // Nothing else changes.
+            .at(moved).taken("last = 3", "told 0 = 0", "told 1 = 0", "told 2 = 3", "told 4 = 7", "told 5 = -8", "told 6 = 0",
+                "told 7 = 0", "matrix 0 5 16 = 77", "error = 100.0", "vector 0 32 0 ! state", "vector 0 33 0 ! argument")
+            .at(grown).taken("last = 2", "told 8 = 1032", "told 9 = 1040", "told 10 = 1048");
     }
 
     private static void promise12PictureIsOpen() {
@@ -97,12 +122,23 @@ final class ShowingEdges {
     }
 
     private static void promise12WasNotYetShown() {
-        new Edge(12, "and was not yet")
+        new Edge(12, "if it came of a picture and was not yet")
             .at(Stages.with(SECOND, "last = 2")).taken("sample 0 0 0 = 20", "last = 2", "told 3 = 2")
             .same(new String[] {}, new String[] {"last"}).same(new String[] {"light 0 5"}, new String[] {"light 0 5", "last"})
             .at(SECOND).taken("last = 2", "last = 2", "sample 0 0 0 = 20")
             // Pictures may come behind it all the same.
             .at(Stages.with(SECOND, "last = 2", "begin 2 1 1 false", "square", "done = 2")).taken("last = 3", "last = 3");
+    }
+
+    private static void promise13OfThePictureShownLast() {
+        new Edge(13, "A sample of the picture that was shown last")
+            .at(SECOND).taken("sample 0 0 0 = 10", "sample 1 0 0 = 1", "sample 2 0 0 = 2")
+            .at(Stages.with(SECOND, "begin 3 1 1 false", "itself", "square"))
+            .taken("sample 0 0 0 = 10", "done", "sample 0 0 0 = 128", "sample 1 0 0 = 128", "last", "sample 0 0 0 = 20",
+                "sample 1 7 7 = 3", "sample 2 7 7 = 4")
+            // To look at it changes nothing.
+            .at(Stages.CLOSED, Stages.OPEN_2, Stages.TOLD_3, Stages.FULL_1)
+            .same(new String[] {}, new String[] {"sample 0 0 0", "sample 1 15 7", "sample 2 3 3"});
     }
 
     private static void promise13NoneWasShown() {
@@ -118,7 +154,7 @@ final class ShowingEdges {
     }
 
     private static void promise13Planes() {
-        new Edge(13, "IndexOutOfBoundsException: there is no such sample (the plane)")
+        new Edge(13, "IndexOutOfBoundsException: there is no such sample", "the plane")
             .at(SECOND, Stages.with(SECOND, "begin 2 1 1 false"))
             .taken("sample 0 0 0 = 10", "sample 1 0 0 = 1", "sample 2 0 0 = 2")
             .refused("sample -1 0 0 ! index", "sample 3 0 0 ! index", "sample " + LEAST + " 0 0 ! index",
@@ -126,7 +162,7 @@ final class ShowingEdges {
     }
 
     private static void promise13Places() {
-        Edge edge = new Edge(13, "IndexOutOfBoundsException: there is no such sample (x and y)");
+        Edge edge = new Edge(13, "IndexOutOfBoundsException: there is no such sample", "x and y");
         for (int w = 1; w <= 4; w++) {
             for (int h = 1; h <= 3; h++) {
                 edge.at(new String[] {"size " + w + " " + h, "begin 2 1 1 false", "leave " + w * h, "done", "last"});
@@ -160,11 +196,21 @@ final class ShowingEdges {
     }
 
     private static void promise16AsItIsNow() {
-        new Edge(16, "is kept, as it is now")
+        new Edge(16, "The picture that was shown last is kept, as it is now")
             .at(Stages.with(SECOND, "light 1 5", "keep"))
             .taken("error = 0.0", "light 1 2", "error = 4.0", "last = 2", "error = 25.0", "keep", "error = 0.0")
             // A picture that is told later does not change it, nor is it changed by what is kept.
             .taken("begin 3 1 1 false", "itself", "square", "error = 0.0", "sample 0 0 0 = 15", "done", "error = 12769.0");
+    }
+
+    private static void promise18VectorsAndPasts() {
+        new Edge(18, "the vectors forward x, y, backward x, y (4 to 7); the pasts of planes 0 to 2 (8 to 10)")
+            .at(new String[] {"size 3 1", "begin 3 2 3 true", "itself", "level 3 0 1", "level 4 0 2", "level 5 0 3", "square"})
+            .taken("told 8 = 1032", "told 9 = 1040", "told 10 = 1048", "told 4 = 0", "told 5 = 0", "told 6 = 0", "told 7 = 0")
+            // As they are told, also if the picture is whole; pasts stay until the square is made.
+            .taken("vector 0 5 -6", "told 4 = 5", "told 5 = -6", "told 6 = 0", "told 7 = 0", "vector 1 7 -8", "told 4 = 5",
+                "told 5 = -6", "told 6 = 7", "told 7 = -8", "told 8 = 1032", "square = 2", "told 8 = 1024", "told 9 = 1024",
+                "told 10 = 1024", "told 4 = 5", "told 7 = -8");
     }
 
     private static void promise18What() {
@@ -180,7 +226,7 @@ final class ShowingEdges {
     }
 
     private static void promise18WithoutAPicture() {
-        new Edge(18, "The kind of the open picture, 0 without one; how many of its squares are there")
+        new Edge(18, "The kind of the open picture, 0 without one (what = 0); how many of its squares are there (1)")
             .at(Stages.NONE_OPEN).taken("told 0 = 0", "told 1 = 0", "begin 3 1 1 false", "told 0 = 3", "told 1 = 0")
             .at(Stages.OPEN_1).taken("told 0 = 1", "told 1 = 1").at(Stages.OPEN_2).taken("told 0 = 2", "told 1 = 1")
             .at(Stages.OPEN_3).taken("told 0 = 3", "told 1 = 1")
@@ -203,7 +249,7 @@ final class ShowingEdges {
             pictures[3 * i + 1] = "square = 1";
             pictures[3 * i + 2] = "done = " + i;
         }
-        Edge edge = new Edge(18, "An object is used for at most 512 calls").at(pictures);
+        Edge edge = new Edge(Document.WHAT_IT_IS, "An object is used for at most 512 calls after it has been made").at(pictures);
         edge.taken("told 2 = 170", "told 3 = 169").taken("last = 170", "sample 0 15 15 = 128");
     }
 }

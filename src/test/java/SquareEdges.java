@@ -4,6 +4,7 @@ final class SquareEdges {
     }
 
     static void all() {
+        promise9IsMade();
         promise9NoPictureIsOpen();
         promise9AllSquaresAreThere();
         promise9KindOneNotForItself();
@@ -18,6 +19,17 @@ final class SquareEdges {
         promise9PastsBehindOtherSquares();
     }
 
+    private static void promise9IsMade() {
+        // The next one in its order, of what was told for it alone, and nothing of the others.
+        new Edge(9, "The square that is to come is made")
+            .at(new String[] {"size 2 2", "begin 2 1 1 false", "square = 1"})
+            .taken("level 0 0 2", "scale 31", "square = 2", "told 1 = 2", "leave 2", "done", "last", "sample 0 0 0 = 128",
+                "sample 0 16 0 = 147", "sample 0 24 0 = 128", "sample 0 0 16 = 128", "sample 0 16 16 = 128",
+                "sample 1 8 0 = 128")
+            .taken("square = 2", "itself", "level 5 0 9", "square = 3", "square = 4", "done", "last",
+                "sample 2 0 7 = 128", "sample 2 0 8 = 137", "sample 2 7 15 = 137", "sample 2 8 8 = 128");
+    }
+
     private static void promise9NoPictureIsOpen() {
         new Edge(9, "IllegalStateException: no picture is open")
             .at(Stages.NONE_OPEN).refused("square ! state").taken("begin 2 1 1 false", "square = 1")
@@ -25,7 +37,7 @@ final class SquareEdges {
     }
 
     private static void promise9AllSquaresAreThere() {
-        new Edge(9, "IllegalStateException: all its squares are there")
+        new Edge(9, "IllegalStateException: ... all its squares are there")
             .at(Stages.FULL).refused("square ! state").taken("done")
             .at(Stages.TOLD_1, Stages.TOLD_2, Stages.TOLD_3).taken("square = 2", "square ! state", "told 1 = 2")
             .at(new String[] {"size 4 3", "begin 2 1 1 false", "leave 11 = 11"})
@@ -33,7 +45,7 @@ final class SquareEdges {
     }
 
     private static void promise9KindOneNotForItself() {
-        new Edge(9, "IllegalStateException: this one is not for itself, with the kind 1")
+        new Edge(9, "IllegalStateException: ... this one is not for itself, with the kind 1")
             .at(Stages.OPEN_1, Stages.with(Stages.OPEN_1, "level 0 0 9"), new String[] {"begin 1 1 1 false"})
             .refused("square ! state").taken("itself", "square")
             // What was told before the call that was refused still counts.
@@ -42,7 +54,7 @@ final class SquareEdges {
     }
 
     private static void promise9KindThreeWithoutVector() {
-        new Edge(9, "IllegalStateException: this one has no vector, with the kind 3")
+        new Edge(9, "IllegalStateException: ... this one ... has no vector, with the kind 3")
             .at(Stages.OPEN_3, Stages.with(Stages.OPEN_3, "level 0 0 9"), Stages.with(Stages.CLOSED, "begin 3 1 1 false"))
             .refused("square ! state")
             .taken("vector 0 0 0", "square").taken("vector 1 0 0", "square").taken("itself", "square")
@@ -79,7 +91,7 @@ final class SquareEdges {
     }
 
     private static void promise9RowsOfSquares() {
-        Edge edge = new Edge(9, "Square n lies in row n / W, column n modulo W");
+        Edge edge = new Edge(Document.TERMS, "Square n lies in row n / W, column n modulo W");
         for (int w = 1; w <= 4; w++) {
             for (int h = 2; h <= 3; h++) {
                 // The last square of the first row, and the first one of the row below.
@@ -111,7 +123,8 @@ final class SquareEdges {
     }
 
     private static void promise9BlocksOfASquare() {
-        new Edge(9, "0 to 3 the quarters of its 16 by 16 in plane 0 (left and right, then below)")
+        new Edge(Document.TERMS, "0 to 3 the quarters of its 16 by 16 in plane 0 (left and right, then below), 4 and 5 its 8"
+            + " by 8 in planes 1 and 2")
             .at(Stages.with(Stages.flat(10, 20, 30, 40, 50, 60), "last"))
             .taken("sample 0 7 7 = 10", "sample 0 8 7 = 20", "sample 0 7 8 = 30", "sample 0 8 8 = 40",
                 "sample 0 0 0 = 10", "sample 0 15 0 = 20", "sample 0 0 15 = 30", "sample 0 15 15 = 40",
@@ -119,14 +132,14 @@ final class SquareEdges {
     }
 
     private static void promise9PastNotBelow() {
-        new Edge(9, "grows by 8 times the level, but not below 0")
+        new Edge(Document.TERMS, "grows by 8 times the level, but not below 0")
             .at(new String[] {"size 2 1", "begin 1 1 1 false", "itself"})
             .taken("level 4 0 -127", "square", "told 9 = 8", "itself", "square", "done", "last", "sample 1 0 0 = 1")
             .taken("level 4 0 -128", "square", "told 9 = 0", "itself", "square", "done", "last", "sample 1 0 0 = 0")
             .taken("level 4 0 -129", "square", "told 9 = 0", "itself", "level 4 0 1", "square", "told 9 = 8", "done",
                 "last", "sample 1 0 0 = 0", "sample 1 8 0 = 1")
             .taken("level 4 0 -255", "square", "told 9 = 0", "itself", "level 4 0 2", "square", "told 9 = 16");
-        new Edge(9, "grows by 8 times the level, but not below 0, from block to block")
+        new Edge(Document.TERMS, "grows by 8 times the level, but not below 0", "from block to block")
             .at(new String[] {"begin 1 1 1 false", "itself", "level 0 0 -100"})
             .taken("level 1 0 -28", "level 2 0 1", "square", "told 8 = 8")
             .taken("level 1 0 -29", "level 2 0 1", "square", "told 8 = 8", "done", "last", "sample 0 0 0 = 28",
@@ -135,14 +148,14 @@ final class SquareEdges {
     }
 
     private static void promise9PastNotAbove() {
-        new Edge(9, "nor above 2040")
+        new Edge(Document.TERMS, "nor above 2040")
             .at(new String[] {"size 2 1", "begin 1 1 1 false", "itself"})
             .taken("level 5 0 126", "square", "told 10 = 2032", "itself", "square", "done", "last", "sample 2 0 0 = 254")
             .taken("level 5 0 127", "square", "told 10 = 2040", "itself", "square", "done", "last", "sample 2 0 0 = 255")
             .taken("level 5 0 128", "square", "told 10 = 2040", "itself", "level 5 0 -1", "square", "told 10 = 2032",
                 "done", "last", "sample 2 0 0 = 255", "sample 2 8 0 = 254")
             .taken("level 5 0 255", "square", "told 10 = 2040", "itself", "level 5 0 -2", "square", "told 10 = 2024");
-        new Edge(9, "nor above 2040, from block to block")
+        new Edge(Document.TERMS, "nor above 2040", "from block to block")
             .at(new String[] {"begin 1 1 1 false", "itself", "level 0 0 100"})
             .taken("level 1 0 27", "level 2 0 -1", "square", "told 8 = 2032")
             .taken("level 1 0 28", "level 2 0 -1", "square", "told 8 = 2032", "done", "last", "sample 0 0 0 = 228",
@@ -151,7 +164,7 @@ final class SquareEdges {
     }
 
     private static void promise9PastOfEachPlane() {
-        new Edge(9, "the PAST of its plane, which was 1024 at first")
+        new Edge(Document.TERMS, "the PAST of its plane, which was 1024 at first, and before that grows by 8 times the level")
             .at(new String[] {"begin 1 1 1 false", "itself"})
             .taken("square", "told 8 = 1024", "told 9 = 1024", "told 10 = 1024")
             .taken("level 3 0 1", "level 4 0 2", "level 5 0 3", "told 8 = 1024", "square", "told 8 = 1032",
@@ -166,7 +179,7 @@ final class SquareEdges {
         String[] two = Stages.with(new String[] {"size 2 1"}, grown);
         String[] three = Stages.with(new String[] {"size 2 1", "begin 3 1 1 false"}, Stages.with(
             new String[] {"itself", "level 0 0 1", "level 4 0 2", "level 5 0 3"}, "square", "told 8 = 1032"));
-        new Edge(9, "Pasts are 1024 again behind each square that is not for itself")
+        new Edge(Document.TERMS, "Pasts are 1024 again ... behind each square that is not for itself")
             .at(two).taken(Stages.with(new String[] {"square = 2"}, again))
             .taken(Stages.with(new String[] {"vector 0 0 0", "told 8 = 1032", "square = 2"}, again))
             .at(three).taken(Stages.with(new String[] {"vector 1 0 0", "told 8 = 1032", "square = 2"}, again))
