@@ -19,6 +19,7 @@ final class FetchingEdges {
         promise9OutsideIsOfThePicture();
         termsOutsideOfEachReference();
         promise9WholeCountsTwice();
+        termsWholeDownward();
         promise9EachDirectionHasItsVector();
         termsVectorsOfTheSmallerPlanes();
         promise9BothDirections();
@@ -150,8 +151,8 @@ final class FetchingEdges {
 
     private static void termsVectorsOfTheSmallerPlanes() {
         // Both references are alike, so that the vector alone shows.
-        String[] across = Stages.with(sideBySide(), Stages.with(sideBySideAgain(), "begin 3 1 1 false"));
-        String[] below = Stages.with(oneBelow(), Stages.with(sideBySideAgain(), "begin 3 1 1 false"));
+        String[] across = Stages.with(sideBySide(), Stages.with(again(), "begin 3 1 1 false"));
+        String[] below = Stages.with(oneBelow(), Stages.with(again(), "begin 3 1 1 false"));
         new Edge(Document.TERMS, "Planes 1 and 2: likewise", "with each direction")
             .at(across)
             .taken("vector 0 4 0", "square", "leave 1", "done", "sample 1 6 0 = 100", "sample 1 7 0 = 201",
@@ -167,8 +168,8 @@ final class FetchingEdges {
             .taken("vector 0 0 0", "vector 1 0 4", "square", "leave 1", "done", "sample 1 0 7 = 151", "sample 2 0 7 = 67");
     }
 
-    /** The same picture once more, all of it left out. */
-    private static String[] sideBySideAgain() {
+    /** The same picture of two squares once more, all of it left out. */
+    private static String[] again() {
         return new String[] {"begin 2 1 1 false", "leave 2", "done"};
     }
 
@@ -304,6 +305,19 @@ final class FetchingEdges {
             .taken("sample 0 0 0 = 100", "sample 0 1 0 = 200", "sample 1 0 0 = 151", "sample 1 1 0 = 201");
         edge.at(Stages.with(whole, Stages.with(new String[] {"vector 0 16 0", "told 4 = -16"}, end)))
             .taken("sample 0 0 0 = 100", "sample 0 15 0 = 100", "sample 1 7 0 = 100");
+    }
+
+    private static void termsWholeDownward() {
+        // Both references are alike, so that the vector alone shows.
+        String[] below = Stages.with(oneBelow(), Stages.with(again(), "begin 3 1 1 true"));
+        new Edge(Document.TERMS, "If the picture is WHOLE it counts twice when it is used", "downward, in each direction")
+            .at(below)
+            .taken("vector 0 0 1", "told 5 = 1", "square", "leave 1", "done", "sample 0 0 14 = 100", "sample 0 0 15 = 200",
+                "sample 1 0 6 = 100", "sample 1 0 7 = 151", "sample 2 0 7 = 67")
+            .taken("vector 1 0 1", "told 7 = 1", "square", "leave 1", "done", "sample 0 0 14 = 100", "sample 0 0 15 = 200",
+                "sample 1 0 6 = 100", "sample 1 0 7 = 151", "sample 2 0 7 = 67")
+            .taken("vector 0 0 3", "vector 1 0 1", "square", "leave 1", "done", "sample 0 0 12 = 100",
+                "sample 0 0 13 = 150", "sample 0 0 15 = 200", "sample 1 0 6 = 126", "sample 1 0 7 = 176");
     }
 
     private static void promise9EachDirectionHasItsVector() {

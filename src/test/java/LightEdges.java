@@ -249,6 +249,11 @@ final class LightEdges {
                 "sample 1 0 0 = 1", "sample 2 7 7 = 1")
             .taken("begin 2 1 1 false", "square", "done = 1", "sample 0 0 0 = 7", "last = 2", "sample 0 0 0 = 100")
             .taken("begin 3 1 1 false", "vector 1 0 0", "square", "done = 2", "sample 0 0 0 = 100")
+            .taken("begin 3 1 1 false", "vector 0 0 0", "square", "done = 2", "sample 0 0 0 = 128")
+            // Nor in the picture that is told meanwhile, or in any that is shown later.
+            .taken("begin 3 1 1 false", "vector 1 0 0", "square", "light 0 9", "sample 0 0 0 = 9", "done = 2",
+                "sample 0 0 0 = 100", "light 0 8", "begin 3 1 1 false", "vector 1 0 0", "square", "done = 3",
+                "sample 0 0 0 = 100")
             .at(new String[] {"size 4 3", "begin 2 1 1 false", "leave 12", "done", "last", "light 1 1"})
             .taken("sample 0 0 0 = 129", "sample 0 63 47 = 129", "sample 0 63 0 = 129", "sample 0 0 47 = 129",
                 "sample 1 31 23 = 128", "sample 2 31 23 = 128");

@@ -88,7 +88,12 @@ final class ShowingEdges {
                 "told 3 = 1", "sample 0 0 0 = 77", "last = 2", "sample 0 0 0 = 20", "last = 2")))
             .at(FIRST)
             .taken(Stages.with(new String[] {"told 3 = 0"}, Stages.with(Stages.flat(20, 20, 20, 20, 3, 4),
-                "told 3 = 1", "sample 0 0 0 = 10", "last = 2", "sample 0 0 0 = 20", "last = 2")));
+                "told 3 = 1", "sample 0 0 0 = 10", "last = 2", "sample 0 0 0 = 20", "last = 2")))
+            // Nor is it shown again behind pictures of the kind 3.
+            .at(Stages.with(SECOND, "begin 3 1 1 false", "itself", "square", "done = 2", "last = 3", "begin 3 1 1 false",
+                "itself", "square", "done = 4"))
+            .taken("sample 0 0 0 = 128", "last = 4", "sample 0 0 0 = 128", "begin 3 1 1 false", "itself", "square",
+                "done = 5", "begin 2 1 1 false", "square", "done = 5", "last = 6", "sample 0 0 0 = 20");
     }
 
     private static void promise12NoPictureComes() {
@@ -250,6 +255,6 @@ final class ShowingEdges {
             pictures[3 * i + 2] = "done = " + i;
         }
         Edge edge = new Edge(Document.WHAT_IT_IS, "An object is used for at most 512 calls after it has been made").at(pictures);
-        edge.taken("told 2 = 170", "told 3 = 169").taken("last = 170", "sample 0 15 15 = 128");
+        edge.taken("told 2 = 170", "told 3 = 169").taken("last = 170", "sample 0 15 15 = 128").taken("told 0 = 0", "told 1 = 0");
     }
 }

@@ -169,7 +169,12 @@ final class TellingEdges {
             .taken("scale 31", "leave 1 = 2", "level 0 0 2", "square = 3", "done", "last", "sample 0 32 0 = 147")
             .taken("scale 31", "itself", "square = 2", "level 0 0 2", "square = 3", "done", "last", "sample 0 32 0 = 147")
             .taken("scale 31", "vector 0 0 0", "square = 2", "level 0 0 2", "square = 3", "done", "last",
-                "sample 0 32 0 = 147");
+                "sample 0 32 0 = 147")
+            .taken("scale 31", "matrix 0 0 9", "square = 2", "matrix 1 1 9", "level 0 0 2", "square = 3", "done", "last",
+                "sample 0 32 0 = 147")
+            .at(new String[] {"size 3 1", "begin 3 1 1 false", "scale 31", "vector 0 0 0", "square = 1"})
+            .taken("leave 1 = 2", "vector 1 0 0", "level 0 0 2", "square = 3", "done", "sample 0 32 0 = 147")
+            .taken("itself", "square = 2", "vector 1 0 0", "level 0 0 2", "square = 3", "done", "sample 0 32 0 = 147");
     }
 
     private static void promise6Itself() {

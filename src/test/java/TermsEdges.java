@@ -144,17 +144,40 @@ final class TermsEdges {
         List<int[]> places = zigzag();
         Script.due("places of the zigzag", places.size(), 64);
         for (int i = 0; i < 64; i++) {
-            // The level 127 makes 255 in a square that is fetched.
-            long[][] coefficients = new long[8][8];
-            coefficients[places.get(i)[0]][places.get(i)[1]] = 255;
-            int[][] f = Model.samples(coefficients);
-            String[] due = new String[16];
-            for (int k = 0; k < 8; k++) {
-                due[k] = "sample 0 " + k + " 0 = " + (128 + f[0][k]);
-                due[8 + k] = "sample 0 0 " + k + " = " + (128 + f[k][0]);
+            // With 32 at its place of the matrix, the level 64 makes 258, made 257, in a square that is fetched, and
+            // 256, made 255, in one for itself, whose place 0 has no level of this sort.
+            int at = 8 * places.get(i)[0] + places.get(i)[1];
+            String level = "level " + i % 6 + " " + i + " 64";
+            edge.at(Stages.with(new String[] {"matrix 1 " + at + " 32", "begin 2 1 1 false", level}, END))
+                .taken(firstRowAndColumn(i % 6, 128, with(at, 257)));
+            if (i > 0) {
+                edge.at(Stages.with(new String[] {"matrix 0 " + at + " 32", "begin 1 1 1 false", "itself", level}, END))
+                    .taken(firstRowAndColumn(i % 6, 0, with(at, 255, 0, 1024)));
             }
-            edge.at(Stages.with(new String[] {"begin 2 1 1 false", "level 0 " + i + " 127"}, END)).taken(due);
         }
+    }
+
+    /** Coefficients of a block, all 0 but for some that are told by their places in rows of 8. */
+    private static long[][] with(int... placesAndCoefficients) {
+        long[][] coefficients = new long[8][8];
+        for (int i = 0; i < placesAndCoefficients.length; i += 2) {
+            coefficients[placesAndCoefficients[i] / 8][placesAndCoefficients[i] % 8] = placesAndCoefficients[i + 1];
+        }
+        return coefficients;
+    }
+
+    /** What is due of a block of these coefficients where so much is fetched. */
+    private static String[] firstRowAndColumn(int block, int fetched, long[][] coefficients) {
+        int[][] f = Model.samples(coefficients);
+        int plane = block < 4 ? 0 : block - 3;
+        int x = plane == 0 ? block % 2 * 8 : 0;
+        int y = plane == 0 ? block / 2 * 8 : 0;
+        String[] due = new String[16];
+        for (int k = 0; k < 8; k++) {
+            due[k] = "sample " + plane + " " + (x + k) + " " + y + " = " + (fetched + f[0][k]);
+            due[8 + k] = "sample " + plane + " " + x + " " + (y + k) + " = " + (fetched + f[k][0]);
+        }
+        return due;
     }
 
     private static void termsNumbersOfTheRow() {
