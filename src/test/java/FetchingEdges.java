@@ -1,4 +1,4 @@
-/** Promise 9: what is fetched, by vectors of half samples, from where. */
+/** Terms: what is fetched, by vectors of half samples, from where. */
 final class FetchingEdges {
     // Made of the level 31: 2 * 31 = 62, made 61, at row 0, column 1, or at row 1, column 0.
     private static final int[] SLOPE = {139, 137, 134, 130, 126, 122, 119, 117};
@@ -7,27 +7,27 @@ final class FetchingEdges {
     }
 
     static void all() {
-        promise9HalfTheVectorRoundedDown();
-        promise9TwoTogether();
-        promise9FourTogether();
-        promise9SmallerPlanes();
-        promise9SmallerPlanesDownward();
+        termsHalfTheVectorRoundedDown();
+        termsTwoTogether();
+        termsFourTogether();
+        termsSmallerPlanes();
+        termsSmallerPlanesDownward();
         termsSmallerPlanesTogether();
-        promise9OutsideToTheSides();
-        promise9OutsideAboveAndBelow();
-        promise9OutsideOfTheSmallerPlanes();
-        promise9OutsideIsOfThePicture();
+        termsOutsideToTheSides();
+        termsOutsideAboveAndBelow();
+        termsOutsideOfTheSmallerPlanes();
+        termsOutsideIsOfThePicture();
         termsOutsideOfEachReference();
-        promise9WholeCountsTwice();
+        termsWholeCountsTwice();
         termsWholeDownward();
-        promise9EachDirectionHasItsVector();
+        termsEachDirectionHasItsVector();
         termsVectorsOfTheSmallerPlanes();
-        promise9BothDirections();
+        termsBothDirections();
         termsBothDirectionsOfHalves();
-        promise9KindTwoIsFetchedForward();
-        promise9KindThreeByEachDirection();
-        promise9ReferencesAtFirst();
-        promise9ReferencesChangePlaces();
+        termsKindTwoIsFetchedForward();
+        termsKindThreeByEachDirection();
+        termsReferencesAtFirst();
+        termsReferencesChangePlaces();
     }
 
     /** The picture told before is fetched by the vector, and shown. */
@@ -36,7 +36,7 @@ final class FetchingEdges {
             .taken(samples);
     }
 
-    private static void promise9HalfTheVectorRoundedDown() {
+    private static void termsHalfTheVectorRoundedDown() {
         Edge edge = new Edge(Document.TERMS, "FETCHED for plane 0: the sample as many whole ones away as half the vector, rounded down");
         String[] quarters = Stages.flat(100, 120, 140, 160, 50, 60);
         fetched(edge, quarters, "0 0", "sample 0 7 7 = 100", "sample 0 8 7 = 120", "sample 0 7 8 = 140");
@@ -53,7 +53,7 @@ final class FetchingEdges {
         fetched(edge, quarters, "0 -3", "sample 0 0 8 = 100", "sample 0 0 9 = 120", "sample 0 0 10 = 140");
     }
 
-    private static void promise9TwoTogether() {
+    private static void termsTwoTogether() {
         Edge edge = new Edge(Document.TERMS, "if it is odd, that and the next one, both together and 1, by 2; ... (rounded down)");
         // 200 + 1, 201 + 1, 202 + 1 and 203 + 1.
         fetched(edge, Stages.flat(100, 100, 101, 101, 0, 0), "1 0", "sample 0 7 0 = 100", "sample 0 7 8 = 101");
@@ -63,7 +63,7 @@ final class FetchingEdges {
         fetched(edge, Stages.flat(100, 100, 102, 103, 0, 0), "0 1", "sample 0 0 7 = 101", "sample 0 8 7 = 102");
     }
 
-    private static void promise9FourTogether() {
+    private static void termsFourTogether() {
         Edge edge = new Edge(Document.TERMS, "if both parts are odd, four together and 2, by 4 (rounded down)");
         fetched(edge, Stages.flat(100, 100, 100, 100, 0, 0), "1 1", "sample 0 7 7 = 100");
         fetched(edge, Stages.flat(100, 100, 100, 101, 0, 0), "1 1", "sample 0 7 7 = 100");
@@ -98,7 +98,7 @@ final class FetchingEdges {
             .taken(samples);
     }
 
-    private static void promise9SmallerPlanes() {
+    private static void termsSmallerPlanes() {
         Edge edge = new Edge(Document.TERMS, "Planes 1 and 2: likewise with the vector by 2, cut off");
         firstFetched(edge, sideBySide(), "1 0", "sample 1 7 0 = 100", "sample 2 7 0 = 50");
         firstFetched(edge, sideBySide(), "2 0", "sample 1 6 0 = 100", "sample 1 7 0 = 151", "sample 2 7 0 = 67");
@@ -111,7 +111,7 @@ final class FetchingEdges {
         secondFetched(edge, sideBySide(), "-5 0", "sample 1 8 0 = 100", "sample 1 9 0 = 201", "sample 2 8 0 = 50");
     }
 
-    private static void promise9SmallerPlanesDownward() {
+    private static void termsSmallerPlanesDownward() {
         Edge edge = new Edge(Document.TERMS, "Planes 1 and 2: likewise with the vector by 2, cut off", "downward");
         firstFetched(edge, oneBelow(), "0 1", "sample 1 0 7 = 100", "sample 2 0 7 = 50");
         firstFetched(edge, oneBelow(), "0 2", "sample 1 0 6 = 100", "sample 1 0 7 = 151", "sample 2 0 7 = 67");
@@ -236,7 +236,7 @@ final class FetchingEdges {
         return "sample " + plane + " 0 " + at + " = " + (SLOPE[one] + SLOPE[other] + 1) / 2;
     }
 
-    private static void promise9OutsideToTheSides() {
+    private static void termsOutsideToTheSides() {
         Edge edge = new Edge(Document.TERMS, "Outside of the picture stand the samples nearest there", "left and right");
         fetched(edge, slope(1), "0 0", across(0, 0, 0, 0), across(0, 1, 1, 1), across(0, 14, 6, 6), across(0, 15, 7, 7));
         fetched(edge, slope(1), "1 0", across(0, 14, 6, 7), across(0, 15, 7, 7));
@@ -253,7 +253,7 @@ final class FetchingEdges {
         fetched(edge, slope(1), "-256 0", across(0, 0, 0, 0), across(0, 15, 0, 0));
     }
 
-    private static void promise9OutsideAboveAndBelow() {
+    private static void termsOutsideAboveAndBelow() {
         Edge edge = new Edge(Document.TERMS, "Outside of the picture stand the samples nearest there", "above and below");
         fetched(edge, slope(2), "0 0", down(0, 0, 0, 0), down(0, 1, 1, 1), down(0, 14, 6, 6), down(0, 15, 7, 7));
         fetched(edge, slope(2), "0 1", down(0, 14, 6, 7), down(0, 15, 7, 7));
@@ -267,7 +267,7 @@ final class FetchingEdges {
         fetched(edge, slope(2), "0 -256", down(0, 0, 0, 0), down(0, 15, 0, 0));
     }
 
-    private static void promise9OutsideOfTheSmallerPlanes() {
+    private static void termsOutsideOfTheSmallerPlanes() {
         Edge edge = new Edge(Document.TERMS, "Outside of the picture stand the samples nearest there", "planes 1 and 2");
         fetched(edge, slope(1), "2 0", across(1, 6, 6, 7), across(1, 7, 7, 7), across(2, 7, 7, 7));
         fetched(edge, slope(1), "-2 0", across(1, 0, 0, 0), across(1, 1, 0, 1), across(2, 0, 0, 0));
@@ -281,7 +281,7 @@ final class FetchingEdges {
         fetched(edge, slope(2), "0 -256", down(1, 0, 0, 0), down(2, 7, 0, 0));
     }
 
-    private static void promise9OutsideIsOfThePicture() {
+    private static void termsOutsideIsOfThePicture() {
         Edge edge = new Edge(Document.TERMS, "Outside of the picture", "not of the square");
         firstFetched(edge, sideBySide(), "1 0", "sample 0 14 0 = 100", "sample 0 15 0 = 150", "sample 0 16 0 = 200");
         firstFetched(edge, sideBySide(), "-2 0", "sample 0 0 0 = 100", "sample 0 15 0 = 100");
@@ -291,7 +291,7 @@ final class FetchingEdges {
         secondFetched(edge, oneBelow(), "0 -1", "sample 0 0 16 = 150", "sample 0 0 17 = 200");
     }
 
-    private static void promise9WholeCountsTwice() {
+    private static void termsWholeCountsTwice() {
         String[] whole = Stages.with(sideBySide(), "begin 2 1 1 true");
         String[] half = Stages.with(sideBySide(), "begin 2 1 1 false");
         String[] end = {"square", "leave 1", "done", "last"};
@@ -320,7 +320,7 @@ final class FetchingEdges {
                 "sample 0 0 13 = 150", "sample 0 0 15 = 200", "sample 1 0 6 = 126", "sample 1 0 7 = 176");
     }
 
-    private static void promise9EachDirectionHasItsVector() {
+    private static void termsEachDirectionHasItsVector() {
         String[] both = Stages.with(Stages.flat(10, 20, 30, 40, 1, 2), Stages.flat(110, 120, 130, 140, 3, 4));
         new Edge(Document.TERMS, "VECTORS, in half samples: x and y of each direction, 0 at first")
             .at(Stages.with(both, "begin 3 1 1 false"))
@@ -333,7 +333,7 @@ final class FetchingEdges {
             .taken("vector 0 0 2", "vector 1 2 0", "square", "done", "sample 0 7 0 = 65", "sample 0 0 7 = 70");
     }
 
-    private static void promise9BothDirections() {
+    private static void termsBothDirections() {
         Edge edge = new Edge(Document.TERMS, "With both directions: both together and 1, by 2");
         String[] both = {"begin 3 1 1 false", "vector 0 0 0", "vector 1 0 0", "square", "done"};
         edge.at(Stages.with(Stages.flat(100, 100, 100, 100, 100, 100),
@@ -345,7 +345,7 @@ final class FetchingEdges {
                 "sample 1 0 0 = 255", "sample 2 0 0 = 1");
     }
 
-    private static void promise9KindTwoIsFetchedForward() {
+    private static void termsKindTwoIsFetchedForward() {
         new Edge(Document.TERMS, "A square of the kind 2 that is not for itself is fetched forward, always")
             .at(Stages.with(Stages.flat(10, 20, 30, 40, 50, 60), "begin 2 1 1 false"))
             .taken("square = 1", "done = 1", "last = 2", "sample 0 0 0 = 10", "sample 0 15 15 = 40", "sample 2 0 0 = 60")
@@ -353,7 +353,7 @@ final class FetchingEdges {
             .taken("itself", "square = 1", "done = 1", "last = 2", "sample 0 0 0 = 128", "sample 2 0 0 = 128");
     }
 
-    private static void promise9KindThreeByEachDirection() {
+    private static void termsKindThreeByEachDirection() {
         String[] second = Stages.with(Stages.flat(50, 50, 50, 50, 5, 5), "begin 3 1 1 false");
         new Edge(Document.TERMS, "of the kind 3 by each direction that was told for it")
             .at(Stages.with(Stages.flat(10, 10, 10, 10, 1, 1), second))
@@ -370,7 +370,7 @@ final class FetchingEdges {
             .taken("vector 1 0 0", "square", "done", "sample 0 0 0 = 114", "sample 0 16 0 = 128");
     }
 
-    private static void promise9ReferencesAtFirst() {
+    private static void termsReferencesAtFirst() {
         new Edge(Document.TERMS, "Two REFERENCES, the OLD and the NEW one, have all samples 128 at first")
             .at(new String[] {"begin 3 1 1 false"})
             .taken("vector 0 3 3", "square", "done = 1", "sample 0 0 0 = 128", "sample 1 7 7 = 128", "sample 2 0 7 = 128")
@@ -382,7 +382,7 @@ final class FetchingEdges {
             .taken("sample 0 0 0 = 128", "sample 1 0 0 = 128");
     }
 
-    private static void promise9ReferencesChangePlaces() {
+    private static void termsReferencesChangePlaces() {
         String[] first = Stages.flat(10, 10, 10, 10, 1, 1);
         String[] second = Stages.with(first, Stages.flat(20, 20, 20, 20, 2, 2));
         String[] forward = {"begin 3 1 1 false", "vector 0 0 0", "square", "done"};

@@ -1,4 +1,4 @@
-/** Promise 9: how levels become coefficients, and coefficients samples. */
+/** Terms: how levels become coefficients, and coefficients samples. */
 final class ReckoningEdges {
     private static final String[] ITSELF = {"begin 1 1 1 false", "itself"};
     private static final String[] FETCHED = {"begin 2 1 1 false"};
@@ -8,21 +8,21 @@ final class ReckoningEdges {
     }
 
     static void all() {
-        promise9CutOff();
-        promise9MadeOdd();
-        promise9ZeroIsNotMadeOdd();
-        promise9CoefficientNotAbove();
-        promise9CoefficientNotBelow();
-        promise9FirstCoefficientIsNotScaled();
-        promise9OneMoreOneLess();
-        promise9OthersAreCutOffAndMadeOdd();
-        promise9OthersAreHeld();
-        promise9Zigzag();
-        promise9WaveGoesRound();
-        promise9FirstSumIsRoundedDown();
-        promise9SecondSumIsRoundedDown();
-        promise9SamplesForItselfAreHeld();
-        promise9SumsAreHeld();
+        termsCutOff();
+        termsMadeOdd();
+        termsZeroIsNotMadeOdd();
+        termsCoefficientNotAbove();
+        termsCoefficientNotBelow();
+        termsFirstCoefficientIsNotScaled();
+        termsOneMoreOneLess();
+        termsOthersAreCutOffAndMadeOdd();
+        termsOthersAreHeld();
+        termsZigzag();
+        termsWaveGoesRound();
+        termsFirstSumIsRoundedDown();
+        termsSecondSumIsRoundedDown();
+        termsSamplesForItselfAreHeld();
+        termsSumsAreHeld();
     }
 
     /** The calls up to the picture that is shown, and the samples that are due then. */
@@ -34,7 +34,7 @@ final class ReckoningEdges {
         return calls;
     }
 
-    private static void promise9CutOff() {
+    private static void termsCutOff() {
         Edge edge = new Edge(Document.TERMS, "2 times the level, times the SCALE, times the number of MATRIX 0 there, by 16, cut off");
         // 2 * 8 * 61 / 16 = 61; 2 * 6 * 81 / 16 = 60.75, cut off 60, made 59.
         shows(edge, ITSELF, told("matrix 0 1 61", "level 0 1 8"), "sample 0 0 0 = 139", "sample 0 7 0 = 117");
@@ -46,7 +46,7 @@ final class ReckoningEdges {
         shows(edge, ITSELF, told("scale 3", "matrix 0 1 81", "level 0 1 -2"), "sample 0 0 0 = 118", "sample 0 7 0 = 138");
     }
 
-    private static void promise9MadeOdd() {
+    private static void termsMadeOdd() {
         Edge edge = new Edge(Document.TERMS, "made odd, if it is even and not 0, by one toward 0");
         // 2 * 30 = 60 becomes 59, 2 * 8 * 61 / 16 = 61 stays, 2 * 31 = 62 becomes 61.
         shows(edge, ITSELF, told("level 0 1 30"), "sample 0 0 0 = 138", "sample 0 7 0 = 118");
@@ -69,7 +69,7 @@ final class ReckoningEdges {
         return calls;
     }
 
-    private static void promise9ZeroIsNotMadeOdd() {
+    private static void termsZeroIsNotMadeOdd() {
         Edge edge = new Edge(Document.TERMS, "made odd, if it is even and not 0");
         // 2 * 7 / 16 is cut off to 0, and 2 * 8 / 16 is 1: everywhere in a block, so that it shows.
         shows(edge, ITSELF, everywhere(7, 1), "sample 0 0 0 = 128", "sample 0 1 0 = 128", "sample 0 2 0 = 128");
@@ -79,7 +79,7 @@ final class ReckoningEdges {
         shows(edge, ITSELF, everywhere(8, -1), "sample 0 0 0 = 121", "sample 0 1 0 = 130", "sample 0 2 0 = 126");
     }
 
-    private static void promise9CoefficientNotAbove() {
+    private static void termsCoefficientNotAbove() {
         Edge edge = new Edge(Document.TERMS, "nor above 2047");
         // At row 7, column 7: 2046 would make 183 at (6, 0), and 2048 148 at (0, 0).
         // 2 * 125 * 131 / 16 = 2046.9, made 2045; 2 * 127 * 129 / 16 = 2047.9; 2 * 82 * 200 / 16 = 2050, made 2049.
@@ -90,7 +90,7 @@ final class ReckoningEdges {
             "sample 0 0 0 = 147", "sample 0 6 0 = 184");
     }
 
-    private static void promise9CoefficientNotBelow() {
+    private static void termsCoefficientNotBelow() {
         Edge edge = new Edge(Document.TERMS, "not below -2048");
         // At (7, 0), -2047 makes 147 with the past 1024, -2048 148; with the past 760 it is -2049 that makes one more.
         String[] last = {"matrix 0 63 129", "level 0 63 -127"};
@@ -105,7 +105,7 @@ final class ReckoningEdges {
         shows(edge, lower, most, "sample 0 7 0 = 114");
     }
 
-    private static void promise9FirstCoefficientIsNotScaled() {
+    private static void termsFirstCoefficientIsNotScaled() {
         Edge edge = new Edge(Document.TERMS, "A square for itself: of each block the coefficient at row 0, column 0 is the PAST of its"
             + " plane, ... The others:");
         // Place 0 is the past, whatever the scale and the matrix; place 1 is scaled: 2 * 1 * 31 * 16 / 16 = 62, made 61.
@@ -114,7 +114,7 @@ final class ReckoningEdges {
         shows(edge, loud, told("level 0 1 1"), "told 8 = 1024", "sample 0 0 0 = 139", "sample 0 7 0 = 117");
     }
 
-    private static void promise9OneMoreOneLess() {
+    private static void termsOneMoreOneLess() {
         Edge edge = new Edge(Document.TERMS, "2 times the level, and 1 more if that is above 0, 1 less if below (0 stays 0)");
         // 3 and -3 at row 0, column 1 change the first and the last sample of a row, 0 changes none.
         shows(edge, FETCHED, told("level 0 1 1"), "sample 0 0 0 = 129", "sample 0 1 0 = 128", "sample 0 7 0 = 127");
@@ -128,7 +128,7 @@ final class ReckoningEdges {
         shows(edge, FETCHED, told("scale 31", "level 0 0 0"), "sample 0 0 0 = 128", "sample 0 8 0 = 128");
     }
 
-    private static void promise9OthersAreCutOffAndMadeOdd() {
+    private static void termsOthersAreCutOffAndMadeOdd() {
         Edge edge = new Edge(Document.TERMS, "Another square: each coefficient so with matrix 1");
         // 3 * 22 / 16 = 4.1, cut off 4, made 3; 3 * 27 / 16 = 5.06, cut off 5; 3 * 26 / 16 = 4.9, made 3.
         shows(edge, FETCHED, told("matrix 1 1 22", "level 0 1 1"), "sample 0 0 0 = 129", "sample 0 1 0 = 128");
@@ -143,7 +143,7 @@ final class ReckoningEdges {
         shows(edge, FETCHED, told("matrix 1 0 27", "level 0 0 -1"), "sample 0 0 0 = 127");
     }
 
-    private static void promise9OthersAreHeld() {
+    private static void termsOthersAreHeld() {
         Edge edge = new Edge(Document.TERMS, "Another square: each coefficient so", "not below -2048, nor above 2047");
         // At row 1, column 1: 131 * 250 / 16 = 2046.9, made 2045; 201 * 163 / 16 = 2047.7.
         shows(edge, FETCHED, told("matrix 1 9 250", "level 0 4 65"), "sample 0 3 2 = 183");
@@ -164,7 +164,7 @@ final class ReckoningEdges {
             "sample 0 0 7 = " + below, "sample 0 1 3 = " + inside);
     }
 
-    private static void promise9Zigzag() {
+    private static void termsZigzag() {
         Edge edge = new Edge(Document.TERMS, "the ZIGZAG: ... by rows downward if it is odd, else upward");
         // Rows and columns 0 1, 1 0; 2 0, 1 1, 0 2: the first two of its lines, where it turns round.
         place(edge, 1, 172, 84, 172, 165);
@@ -194,7 +194,7 @@ final class ReckoningEdges {
         shows(edge, ITSELF, told("level 0 " + columnPlace + " 128"), column);
     }
 
-    private static void promise9WaveGoesRound() {
+    private static void termsWaveGoesRound() {
         Edge edge = new Edge(Document.TERMS, "which goes round by 32: ... 9 .. 16: less than 0, as 16 - p; 17 .. 31: as 32 - p");
         // Places 1 to 15, then 2 to 30, and from u = 3 on more than 31: 33 is 1, 35 is 3, up to 105, which is 9.
         wave(edge, 1, 2, 172, 165, 153, 137, 119, 103, 91, 84);
@@ -206,7 +206,7 @@ final class ReckoningEdges {
         wave(edge, 28, 35, 137, 103, 165, 84, 172, 91, 153, 119);
     }
 
-    private static void promise9FirstSumIsRoundedDown() {
+    private static void termsFirstSumIsRoundedDown() {
         Edge edge = new Edge(Document.TERMS, "t(v, x) is the sum ... and 128, by 256; ... (rounded down, both)");
         // 724 * 11 - 1004 * 5 + 128 = 3072 is 12 times 256: 12 makes 1, and 11 would make 0.
         shows(edge, FETCHED, told("level 0 0 5", "level 0 6 2"), "sample 0 2 0 = 129");
@@ -216,7 +216,7 @@ final class ReckoningEdges {
         shows(edge, FETCHED, told("level 0 38 -45"), "sample 0 0 0 = 117");
     }
 
-    private static void promise9SecondSumIsRoundedDown() {
+    private static void termsSecondSumIsRoundedDown() {
         Edge edge = new Edge(Document.TERMS, "f(y, x) the sum ... and 8192, by 16384 (rounded down, both)");
         // t is 1024: 392 * 1024 + 8192 is 25 times 16384, and with one coefficient less it is below that.
         shows(edge, FETCHED, told("level 0 34 130"), "sample 0 0 0 = 153", "sample 0 7 0 = 104");
@@ -231,7 +231,7 @@ final class ReckoningEdges {
         shows(edge, FETCHED, told("level 0 0 -2"), "sample 0 0 0 = 127");
     }
 
-    private static void promise9SamplesForItselfAreHeld() {
+    private static void termsSamplesForItselfAreHeld() {
         Edge edge = new Edge(Document.TERMS, "A square for itself has the f, ... each not below 0, nor above 255");
         // The level 3 makes 6, made 5: one more at the left end of a row, one less (or two) at its right end.
         shows(edge, ITSELF, told("level 0 0 126", "level 0 1 3"), "sample 0 0 0 = 255", "sample 0 7 0 = 253");
@@ -242,7 +242,7 @@ final class ReckoningEdges {
         shows(edge, ITSELF, told("level 4 0 -128", "level 4 1 255"), "sample 1 0 0 = 88", "sample 1 7 0 = 0");
     }
 
-    private static void promise9SumsAreHeld() {
+    private static void termsSumsAreHeld() {
         Edge edge = new Edge(Document.TERMS, "others the sum of f and what is fetched, each not below 0, nor above 255");
         // The level 1 makes 3: one more at the left end of a row, one less at its right end.
         String[] ends = {"level 0 1 1", "level 1 1 1", "level 2 1 1", "level 3 1 1", "level 4 1 1", "level 5 1 1"};

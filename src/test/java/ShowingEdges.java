@@ -1,4 +1,4 @@
-/** Promises 11 to 13, 16 and 18: done, last, sample, keep, told. */
+/** Promises 11 to 13, 16 and 18, and what Terms says of pictures that are shown: done, last, sample, keep, told. */
 final class ShowingEdges {
     private static final String LEAST = "-2147483648";
     private static final String MOST = "2147483647";
@@ -13,8 +13,8 @@ final class ShowingEdges {
         promise11NoneIsOpen();
         promise11SquaresAreMissing();
         promise11AnswersHowManyWereShown();
-        promise11IfItCameOfAPicture();
-        promise11EachIsShownOnce();
+        termsIfItCameOfAPicture();
+        termsEachIsShownOnce();
         promise12NoPictureComes();
         promise12PictureIsOpen();
         promise12IfItCameOfAPicture();
@@ -66,7 +66,7 @@ final class ShowingEdges {
             .taken("begin 3 1 1 false", "itself", "square", "done = 1", "told 2 = 1");
     }
 
-    private static void promise11IfItCameOfAPicture() {
+    private static void termsIfItCameOfAPicture() {
         new Edge(Document.TERMS, "of the others, the one that was the new reference before, if it came of a picture")
             // Nothing is shown with the first one, whichever of the two kinds it has.
             .at(FIRST).taken("told 2 = 1", "told 3 = 0").refused("sample 0 0 0 ! state", "keep ! state")
@@ -80,7 +80,7 @@ final class ShowingEdges {
             .taken("begin 2 1 1 false", "square", "done = 1", "told 3 = 1", "last = 2");
     }
 
-    private static void promise11EachIsShownOnce() {
+    private static void termsEachIsShownOnce() {
         new Edge(Document.TERMS, "(each is shown once)")
             // Shown by last() already, the reference is not shown again when the next picture is done.
             .at(Stages.with(FIRST, "last = 1"))

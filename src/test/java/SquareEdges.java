@@ -1,4 +1,4 @@
-/** Promise 9: when a square may be made, what it answers, and what is past behind it. */
+/** Promise 9, and what Terms says of squares: when one is made, where it lies, and what is past behind it. */
 final class SquareEdges {
     private SquareEdges() {
     }
@@ -11,12 +11,12 @@ final class SquareEdges {
         promise9KindThreeWithoutVector();
         promise9LevelsAreZeroThen();
         promise9AnswersHowManyAreThere();
-        promise9RowsOfSquares();
-        promise9BlocksOfASquare();
-        promise9PastNotBelow();
-        promise9PastNotAbove();
-        promise9PastOfEachPlane();
-        promise9PastsBehindOtherSquares();
+        termsRowsOfSquares();
+        termsBlocksOfASquare();
+        termsPastNotBelow();
+        termsPastNotAbove();
+        termsPastOfEachPlane();
+        termsPastsBehindOtherSquares();
     }
 
     private static void promise9IsMade() {
@@ -90,7 +90,7 @@ final class SquareEdges {
             .taken("told 1 = 0", "square = 1", "told 1 = 1");
     }
 
-    private static void promise9RowsOfSquares() {
+    private static void termsRowsOfSquares() {
         Edge edge = new Edge(Document.TERMS, "Square n lies in row n / W, column n modulo W");
         for (int w = 1; w <= 4; w++) {
             for (int h = 2; h <= 3; h++) {
@@ -122,7 +122,7 @@ final class SquareEdges {
         return Stages.with(before, Stages.with(lit, behind));
     }
 
-    private static void promise9BlocksOfASquare() {
+    private static void termsBlocksOfASquare() {
         new Edge(Document.TERMS, "0 to 3 the quarters of its 16 by 16 in plane 0 (left and right, then below), 4 and 5 its 8"
             + " by 8 in planes 1 and 2")
             .at(Stages.with(Stages.flat(10, 20, 30, 40, 50, 60), "last"))
@@ -131,7 +131,7 @@ final class SquareEdges {
                 "sample 1 0 0 = 50", "sample 1 7 7 = 50", "sample 2 0 0 = 60", "sample 2 7 7 = 60");
     }
 
-    private static void promise9PastNotBelow() {
+    private static void termsPastNotBelow() {
         new Edge(Document.TERMS, "grows by 8 times the level, but not below 0")
             .at(new String[] {"size 2 1", "begin 1 1 1 false", "itself"})
             .taken("level 4 0 -127", "square", "told 9 = 8", "itself", "square", "done", "last", "sample 1 0 0 = 1")
@@ -147,7 +147,7 @@ final class SquareEdges {
             .taken("level 1 0 -27", "level 2 0 1", "square", "told 8 = 16");
     }
 
-    private static void promise9PastNotAbove() {
+    private static void termsPastNotAbove() {
         new Edge(Document.TERMS, "nor above 2040")
             .at(new String[] {"size 2 1", "begin 1 1 1 false", "itself"})
             .taken("level 5 0 126", "square", "told 10 = 2032", "itself", "square", "done", "last", "sample 2 0 0 = 254")
@@ -163,7 +163,7 @@ final class SquareEdges {
             .taken("level 1 0 26", "level 2 0 -1", "square", "told 8 = 2024");
     }
 
-    private static void promise9PastOfEachPlane() {
+    private static void termsPastOfEachPlane() {
         new Edge(Document.TERMS, "the PAST of its plane, which was 1024 at first, and before that grows by 8 times the level")
             .at(new String[] {"begin 1 1 1 false", "itself"})
             .taken("square", "told 8 = 1024", "told 9 = 1024", "told 10 = 1024")
@@ -171,7 +171,7 @@ final class SquareEdges {
                 "told 9 = 1040", "told 10 = 1048");
     }
 
-    private static void promise9PastsBehindOtherSquares() {
+    private static void termsPastsBehindOtherSquares() {
         String[] grown = {
             "begin 2 1 1 false", "itself", "level 0 0 1", "level 4 0 2", "level 5 0 3", "square", "told 8 = 1032",
         };

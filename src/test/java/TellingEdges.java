@@ -1,4 +1,4 @@
-/** Promises 4 to 8: begin, scale, itself, vector, level. */
+/** Promises 4 to 8, and what Terms says of vectors and levels: begin, scale, itself, vector, level. */
 final class TellingEdges {
     private static final String LEAST = "-2147483648";
     private static final String MOST = "2147483647";
@@ -12,9 +12,9 @@ final class TellingEdges {
         promise4ReachForward();
         promise4ReachBackward();
         promise4OneIsOpen();
-        promise4ArgumentIsNamedFirst();
+        termsArgumentIsNamedFirst();
         promise4ScaleIsOne();
-        promise4PastsAndVectorsAgain();
+        termsPastsAndVectorsAgain();
         promise5Scale();
         promise5NoPictureIsOpen();
         promise5FromTheSquareOn();
@@ -30,15 +30,15 @@ final class TellingEdges {
         promise7AllSquaresAreThere();
         promise7SquareForItself();
         promise7Kinds();
-        promise7GoesRound();
-        promise7VectorsAreZeroAgain();
+        termsGoesRound();
+        termsVectorsAreZeroAgain();
         promise8IsTold();
         promise8Block();
         promise8Place();
         promise8Level();
         promise8NoPictureIsOpen();
         promise8AllSquaresAreThere();
-        promise8ZeroAtFirst();
+        termsZeroAtFirst();
     }
 
     private static void promise4Begins() {
@@ -101,7 +101,7 @@ final class TellingEdges {
             .at(Stages.FULL).taken("done", "begin 2 1 1 false", "told 0 = 2", "told 1 = 0");
     }
 
-    private static void promise4ArgumentIsNamedFirst() {
+    private static void termsArgumentIsNamedFirst() {
         new Edge(Document.TERMS, "the one named first when several would do", "promise 4")
             .at(Stages.ANY_OPEN)
             .refused("begin 0 1 1 false ! argument", "begin 4 1 1 false ! argument", "begin 2 0 1 false ! argument",
@@ -119,7 +119,7 @@ final class TellingEdges {
                 "last = 2", "sample 0 0 0 = 166");
     }
 
-    private static void promise4PastsAndVectorsAgain() {
+    private static void termsPastsAndVectorsAgain() {
         String[] open = {
             "size 2 1", "begin 3 2 2 false", "vector 0 7 -8", "vector 1 -9 10", "square", "vector 0 0 0", "square",
         };
@@ -319,7 +319,7 @@ final class TellingEdges {
             .at(new String[] {"begin 2 1 2 false"}).refused("vector 1 33 0 ! argument", "vector 1 32 0 ! state");
     }
 
-    private static void promise7GoesRound() {
+    private static void termsGoesRound() {
         new Edge(Document.TERMS, "such that it is -16 r .. 16 r - 1")
             .at(new String[] {"begin 3 1 2 false", "vector 0 14 -15", "vector 1 -31 30"})
             .taken("vector 0 1 -1", "told 4 = 15", "told 5 = -16").taken("vector 0 2 -2", "told 4 = -16", "told 5 = 15")
@@ -337,7 +337,7 @@ final class TellingEdges {
             .taken("vector 0 15 -16", "told 4 = 15", "told 5 = -16", "vector 0 1 -1", "told 4 = -16", "told 5 = 15");
     }
 
-    private static void promise7VectorsAreZeroAgain() {
+    private static void termsVectorsAreZeroAgain() {
         new Edge(Document.TERMS, "Vectors are 0 again ... with a square for itself")
             .at(Stages.with(Stages.OPEN_3, "itself"))
             .taken("square = 2", "told 4 = 0", "told 5 = 0", "told 6 = 0", "told 7 = 0")
@@ -422,7 +422,7 @@ final class TellingEdges {
             .at(Stages.OPEN_1, Stages.OPEN_2, Stages.OPEN_3).taken("level 3 9 50", "itself", "square = 2");
     }
 
-    private static void promise8ZeroAtFirst() {
+    private static void termsZeroAtFirst() {
         new Edge(Document.TERMS, "of each block of a square 64 numbers, 0 at first")
             .at(new String[] {"begin 1 1 1 false", "itself"})
             .taken("square", "told 8 = 1024", "told 9 = 1024", "told 10 = 1024", "done", "last", "sample 0 0 0 = 128",
